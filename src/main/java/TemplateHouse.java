@@ -3617,7 +3617,7 @@ public final class TemplateHouse {
                 case SLOT: slot(); break;
                 case NEXT: next(); break;
                 case EACHSUB: eachSub(); break;
-                case EACHCALL: collect(called(code(1), 3, current())); break;
+                case EACHCALL: collect(INSTANCE | called(code(1), 3, current())); break;
                 case EACHBY: eachBy(); break;
                 case ZIP: zip(); break;
                 case OPTION: option(); break;
