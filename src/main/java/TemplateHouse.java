@@ -121,7 +121,6 @@ public final class TemplateHouse {
     private final byte[][] files = new byte[8][FILESIZE];
     private final int[] sizes = new int[8];
     private final Store store = new Store();
-    private final Added added = new Added();
     private final Source source = new Source();
     private Gen now = new Gen();
     private Gen spare = new Gen();
@@ -201,7 +200,11 @@ public final class TemplateHouse {
 
     private boolean isRead(int k) {
         try {
-            reader.readAll(spare, k);
+            reader.openAll(spare, k);
+            for (int i = 0; i < 1000000 && reader.isMore(); i++) {
+                reader.definition();
+                reader.body();
+            }
             checker.checkAll(spare);
             return true;
         } catch (IllegalStateException fault) {
@@ -278,17 +281,14 @@ public final class TemplateHouse {
     public int attribute(int value) {
         int n = taped;
         taped = 0;
-        if (state == 1 || value < NONE || value >= store.count) {
-            return NONE;
-        }
-        return added.take(tape, n, value);
+        return state == 1 ? NONE : store.addAttribute(tape, n, value);
     }
 
     public boolean clear() {
         if (state == 1) {
             return false;
         }
-        added.count = 0;
+        store.addedCount = 0;
         return true;
     }
 
@@ -310,7 +310,7 @@ public final class TemplateHouse {
         if (text == NONE) {
             throw new NoSuchElementException();
         }
-        maker.makeAll(now, text, added, wide);
+        maker.makeAll(now, text, wide);
         state = 1;
         shown = 0;
     }
@@ -362,7 +362,7 @@ public final class TemplateHouse {
         switch (what) {
             case 0: return generations;
             case 1: return store.count;
-            case 2: return added.count;
+            case 2: return store.addedCount;
             case 3: return shown;
             case 4: return told(0);
             case 5: return told(1);
@@ -460,7 +460,7 @@ public final class TemplateHouse {
     }
 
     private static boolean isRow(int c) {
-        return isLetter(c) || c >= '0' && c <= '9';
+        return c >= 'a' && c <= 'z' || c >= 'A' && c <= 'Z' || c == '_' || c >= '0' && c <= '9';
     }
 
     // ---- What a text is made of.
@@ -478,6 +478,43 @@ public final class TemplateHouse {
         int count = 0;
         int used = 0;
         int listed = 0;
+        // The attributes that were added: sixteen bytes for the name of each.
+        final byte[] addedNames = new byte[40 * NAMELENGTH];
+        final int[] addedLengths = new int[40];
+        final int[] addedValues = new int[40];
+        int addedCount = 0;
+
+        int addAttribute(byte[] name, int n, int value) {
+            if (value < NONE || value >= count) {
+                return NONE;
+            }
+            if (n < 1 || n > NAMELENGTH || addedCount >= 40) {
+                return NONE;
+            }
+            for (int i = 0; i < n; i++) {
+                setByte(addedNames, addedCount * NAMELENGTH + i, getByte(name, i));
+            }
+            set(addedLengths, addedCount, n);
+            set(addedValues, addedCount, value);
+            addedCount++;
+            return addedCount;
+        }
+
+        boolean sameName(int i, int j) {
+            int n = get(addedLengths, i);
+            return n == get(addedLengths, j)
+                && same(addedNames, i * NAMELENGTH, addedNames, j * NAMELENGTH, n);
+        }
+
+        /** Whether one that was added ahead of this one has its name. */
+        boolean isLater(int i) {
+            for (int j = 0; j < i; j++) {
+                if (sameName(i, j)) {
+                    return true;
+                }
+            }
+            return false;
+        }
 
         /** A value, for whose n bytes takeBytes comes behind it. */
         int make(int s, long m, int n) {
@@ -583,45 +620,9 @@ public final class TemplateHouse {
         }
     }
 
-    /** The attributes that were added. */
-    private static final class Added {
-        final byte[] names = new byte[40 * NAMELENGTH];
-        final int[] lengths = new int[40];
-        final int[] values = new int[40];
-        int count = 0;
-
-        int take(byte[] name, int n, int value) {
-            if (n < 1 || n > NAMELENGTH || count >= 40) {
-                return NONE;
-            }
-            for (int i = 0; i < n; i++) {
-                setByte(names, count * NAMELENGTH + i, getByte(name, i));
-            }
-            set(lengths, count, n);
-            set(values, count, value);
-            count++;
-            return count;
-        }
-
-        boolean sameName(int i, int j) {
-            int n = get(lengths, i);
-            return n == get(lengths, j)
-                && same(names, i * NAMELENGTH, names, j * NAMELENGTH, n);
-        }
-
-        /** Whether one ahead of this one has its name. */
-        boolean isLater(int i) {
-            for (int j = 0; j < i; j++) {
-                if (sameName(i, j)) {
-                    return true;
-                }
-            }
-            return false;
-        }
-    }
-
     /** The names of a generation; the first two are i and i0. */
     private static final class Names {
+        private static final byte[] TURN = {'i', '0'};
         final byte[] bytes = new byte[32100];
         final int[] from = new int[16102];
         final int[] next = new int[16102];
@@ -633,21 +634,13 @@ public final class TemplateHouse {
             Arrays.fill(head, NONE);
             count = 0;
             used = 0;
-            byte[] turn = {'i', '0'};
-            intern(turn, 0, 1);
-            intern(turn, 0, 2);
+            intern(TURN, 0, 1);
+            intern(TURN, 0, 2);
         }
 
         int lengthOf(int name) {
-            return name < 0 || name >= count ? 0 : get(from, name + 1) - get(from, name);
-        }
-
-        private int hash(byte[] src, int at, int n) {
-            int h = n;
-            for (int i = 0; i < n; i++) {
-                h = h * 31 + getByte(src, at + i);
-            }
-            return (h ^ h >>> 13) & 8191;
+            return name < 0 || name >= count || name + 1 >= from.length ? 0
+                : from[name + 1] - from[name];
         }
 
         int find(byte[] src, int at, int n) {
@@ -659,6 +652,14 @@ public final class TemplateHouse {
                 name = get(next, name);
             }
             return NONE;
+        }
+
+        private static int hash(byte[] src, int at, int n) {
+            int h = n;
+            for (int i = at; i < at + n && i >= 0 && i < src.length; i++) {
+                h = h * 31 + src[i];
+            }
+            return (h ^ h >>> 13) & 8191;
         }
 
         int intern(byte[] src, int at, int n) {
@@ -795,27 +796,29 @@ public final class TemplateHouse {
             keep('\n', 0);
         }
 
-        void emit(int c) {
+        void emit(int a) {
             if (codeEnd >= 0 && codeEnd < code.length) {
-                code[codeEnd] = c;
+                code[codeEnd] = a;
                 codeEnd++;
             }
         }
 
-        void emit(int op, int a) {
-            emit(op);
-            emit(a);
-        }
-
-        void emit(int op, int a, int b) {
-            emit(op);
+        void emit(int a, int b) {
             emit(a);
             emit(b);
         }
 
-        void emit(int op, int a, int b, int c) {
-            emit(op, a);
-            emit(b, c);
+        void emit(int a, int b, int c) {
+            emit(a);
+            emit(b);
+            emit(c);
+        }
+
+        void emit(int a, int b, int c, int d) {
+            emit(a);
+            emit(b);
+            emit(c);
+            emit(d);
         }
 
         /** The code at this place goes on here. */
@@ -883,9 +886,9 @@ public final class TemplateHouse {
 
         /** Which PARAM of this text has this name. */
         int paramOf(int text, int name) {
-            int n = get(code, text + 2);
-            for (int i = 0; i < n; i++) {
-                if (get(code, text + 3 + 2 * i) == name) {
+            int n = text < 0 || text + 2 >= code.length ? 0 : code[text + 2];
+            for (int i = 0; i < n && text + 3 + 2 * i < code.length; i++) {
+                if (code[text + 3 + 2 * i] == name) {
                     return i;
                 }
             }
@@ -1002,11 +1005,25 @@ public final class TemplateHouse {
             }
         }
 
+        /** Behind the BLANKS from here on. */
+        int blanksEnd(int from) {
+            int p = from;
+            while (p >= 0 && p < lim && p < src.length
+                && (src[p] == ' ' || src[p] == '\t' || src[p] == '\n')) {
+                p++;
+            }
+            return p;
+        }
+
         /** Behind the row of letters, _ and digits from here on. */
         int rowEnd(int from) {
             int p = from;
-            while (p >= 0 && p < lim && p < src.length && isRow(src[p])) {
-                p++;
+            boolean isIn = true;
+            while (isIn && p >= 0 && p < lim && p < src.length) {
+                int c = src[p];
+                isIn = c >= 'a' && c <= 'z' || c >= 'A' && c <= 'Z' || c == '_'
+                    || c >= '0' && c <= '9';
+                p += isIn ? 1 : 0;
             }
             return p;
         }
@@ -1028,8 +1045,8 @@ public final class TemplateHouse {
             pos++;
         }
 
-        /** A NAME at hand, none of these words. */
-        int name(String words, Names names) {
+        /** Behind a NAME at hand, which is none of these words. */
+        int nameEnd(String words) {
             int to = rowEnd(pos);
             if (!isLetter(peek()) || wordIn(words, src, pos, to - pos) != NONE) {
                 fail(1, here());
@@ -1037,6 +1054,11 @@ public final class TemplateHouse {
             if (to - pos > NAMELENGTH) {
                 fail(2, here());
             }
+            return to;
+        }
+
+        /** Takes the NAME from here to there. */
+        int take(int to, Names names) {
             int from = pos;
             pos = to;
             return names.intern(src, from, to - from);
@@ -1058,9 +1080,8 @@ public final class TemplateHouse {
             return p;
         }
 
-        /** The STRING at hand, as a value. */
-        int string(Gen g) {
-            int to = stringEnd();
+        /** The STRING at hand, which ends there, as a value. */
+        int string(Gen g, int to) {
             int from = g.poolEnd;
             for (int p = pos + 1; p < to; p++) {
                 int c = at(p);
@@ -1077,7 +1098,7 @@ public final class TemplateHouse {
         /** Behind BLANKS and COMMENTS from p on; NONE if a COMMENT lacks its end. */
         int past(int from) {
             int p = from;
-            while (p < lim) {
+            for (int i = 0; i <= FILESIZE && p < lim; i++) {
                 int c = at(p);
                 if (c == '/' && at(p + 1) == '/') {
                     while (p < lim && at(p) != '\n') {
@@ -1092,7 +1113,7 @@ public final class TemplateHouse {
                         return NONE;
                     }
                     p += 2;
-                } else if (c == '\n' || isSpace(c)) {
+                } else if (c == '\n' || c == ' ' || c == '\t') {
                     p++;
                 } else {
                     return p;
@@ -1156,6 +1177,7 @@ public final class TemplateHouse {
             g = gen;
         }
 
+        /** A new file, for this generation. */
         void openFile(Gen gen) {
             g = gen;
             open = '<';
@@ -1168,6 +1190,15 @@ public final class TemplateHouse {
             owner = template;
             filled = region;
             firstPart = g.partCount;
+        }
+
+        /** A SUB outside of BODYs: where its code is. */
+        int constantSub() {
+            define(DICT, NONE, NONE);
+            inSub = false;
+            int head = g.codeEnd;
+            sub(1);
+            return head;
         }
 
         /** The TEXT of a BODY, its code without a head. */
@@ -1241,12 +1272,8 @@ public final class TemplateHouse {
         private int tag(int depth, int within) {
             int openAt = s.here();
             s.pos++;
-            if (s.peek() == '!') {
-                comment();
-                return NOTHING_SPECIAL;
-            }
-            if (s.peek() == '\\') {
-                escape(openAt);
+            if (s.peek() == '!' || s.peek() == '\\') {
+                plainTag(openAt);
                 return NOTHING_SPECIAL;
             }
             s.blanks();
@@ -1265,9 +1292,24 @@ public final class TemplateHouse {
             return STOOD;
         }
 
-        private void comment() {
+        /** A comment, or bytes. */
+        private void plainTag(int openAt) {
             boolean alone = lineStart;
             int patch = flush();
+            if (s.peek() == '!') {
+                comment();
+                restOfLine(alone, patch);
+                return;
+            }
+            lineStart = false;
+            if (s.at(s.pos + 1) == '\\') {
+                joinLines();
+            } else {
+                escape(openAt);
+            }
+        }
+
+        private void comment() {
             int p = s.pos + 1;
             while (p < s.lim && (s.at(p) != '!' || s.at(p + 1) != close)) {
                 p++;
@@ -1276,7 +1318,6 @@ public final class TemplateHouse {
                 s.fail(1, s.placeOf(s.lim));
             }
             s.pos = p + 2;
-            restOfLine(alone, patch);
         }
 
         /** Behind a TAG that may have a line for itself alone. */
@@ -1297,18 +1338,7 @@ public final class TemplateHouse {
         }
 
         private void escape(int openAt) {
-            flush();
-            lineStart = false;
             int from = g.poolEnd;
-            if (s.at(s.pos + 1) == '\\') {
-                s.pos += 2;
-                if (s.peek() != close) {
-                    s.fail(1, s.here());
-                }
-                s.pos++;
-                joinLines();
-                return;
-            }
             for (int i = 0; i < FILESIZE && s.peek() == '\\'; i++) {
                 s.pos++;
                 int c = s.peek();
@@ -1325,7 +1355,13 @@ public final class TemplateHouse {
             g.emit(RAW, openAt, from, g.poolEnd - from);
         }
 
+        /** A TAG behind which the NEWLINE is not there. */
         private void joinLines() {
+            s.pos += 2;
+            if (s.peek() != close) {
+                s.fail(1, s.here());
+            }
+            s.pos++;
             while (s.pos < s.lim && (s.peek() == ' ' || s.peek() == '\t')) {
                 s.pos++;
             }
@@ -1423,7 +1459,7 @@ public final class TemplateHouse {
                 s.fail(1, sign);
             }
             int at = s.here();
-            int name = s.name(TAGWORDS, g.names);
+            int name = s.take(s.nameEnd(TAGWORDS), g.names);
             for (int i = firstPart; i < g.partCount; i++) {
                 if (get(g.parts, i * Gen.PARTSIZE + 2) == name) {
                     s.fail(3, at);
@@ -1465,7 +1501,7 @@ public final class TemplateHouse {
                 s.fail(1, s.here());
             }
             int at = s.here();
-            if (to - s.pos > NAMELENGTH || s.name(TAGWORDS, g.names) != filled) {
+            if (to - s.pos > NAMELENGTH || s.take(s.nameEnd(TAGWORDS), g.names) != filled) {
                 s.fail(1, sign);
             }
             s.need('(');
@@ -1648,7 +1684,7 @@ public final class TemplateHouse {
                     g.emit(SPELLIF, 4, place, g.codeEnd + 6);
                     g.emit(DOTBY, place);
                 } else {
-                    g.emit(DOT, s.name(TAGWORDS, g.names), place);
+                    g.emit(DOT, s.take(s.nameEnd(TAGWORDS), g.names), place);
                 }
                 s.blanks();
             }
@@ -1658,7 +1694,7 @@ public final class TemplateHouse {
             s.blanks();
             int c = s.peek();
             if (c == '"' || c == '\'') {
-                g.emit(PUSH, s.string(g));
+                g.emit(PUSH, s.string(g, s.stringEnd()));
             } else if (c == '{') {
                 g.emit(BLOCK, 0);
                 int skip = g.codeEnd - 1;
@@ -1734,7 +1770,7 @@ public final class TemplateHouse {
                 s.need(')');
                 function(w, place);
             } else {
-                int name = s.name(TAGWORDS, g.names);
+                int name = s.take(s.nameEnd(TAGWORDS), g.names);
                 s.blanks();
                 if (s.peek() == '(') {
                     s.pos++;
@@ -1761,7 +1797,7 @@ public final class TemplateHouse {
             s.need('.');
             s.blanks();
             int place = s.here();
-            int name = s.name(TAGWORDS, g.names);
+            int name = s.take(s.nameEnd(TAGWORDS), g.names);
             s.need('(');
             args(depth);
             call(name, place, flags | SUPER);
@@ -1823,18 +1859,14 @@ public final class TemplateHouse {
 
         private boolean isNamedAhead() {
             int to = s.rowEnd(s.pos);
-            int p = to;
-            while (p < s.lim && (s.at(p) == ' ' || s.at(p) == '\t' || s.at(p) == '\n')) {
-                p++;
-            }
-            return to > s.pos && s.at(p) == '=';
+            return to > s.pos && s.at(s.blanksEnd(to)) == '=';
         }
 
         /** A NAMED behind this one: where its own code is. */
         private int namedArg(int depth, int before) {
             s.blanks();
             int place = s.here();
-            int name = s.name(TAGWORDS, g.names);
+            int name = s.take(s.nameEnd(TAGWORDS), g.names);
             int at = before;
             for (int i = 0; at > 0 && i < FILESIZE; i++) {
                 if (get(g.code, at + 1) == name) {
@@ -1894,7 +1926,7 @@ public final class TemplateHouse {
             } else if (s.wordHere(to, TAGWORDS) == W_SUPER) {
                 superCall(to, depth, APPLIED);
             } else {
-                int name = s.name(TAGWORDS, g.names);
+                int name = s.take(s.nameEnd(TAGWORDS), g.names);
                 s.need('(');
                 args(depth);
                 call(name, place, APPLIED);
@@ -1923,7 +1955,7 @@ public final class TemplateHouse {
         }
 
         /** A SUB, with its head: how many PARAMS it has. */
-        int sub(int depth) {
+        private int sub(int depth) {
             if (depth > PARTS) {
                 s.fail(4, s.here());
             }
@@ -1948,11 +1980,11 @@ public final class TemplateHouse {
         private boolean isParamsAhead() {
             int p = s.pos;
             for (int i = 0; i < FILESIZE; i++) {
-                p = pastBlanks(p);
+                p = s.blanksEnd(p);
                 if (!isLetter(s.at(p))) {
                     return false;
                 }
-                p = pastBlanks(s.rowEnd(p));
+                p = s.blanksEnd(s.rowEnd(p));
                 if (s.at(p) != ',') {
                     return s.at(p) == '|';
                 }
@@ -1961,21 +1993,13 @@ public final class TemplateHouse {
             return false;
         }
 
-        private int pastBlanks(int from) {
-            int p = from;
-            while (p < s.lim && (s.at(p) == ' ' || s.at(p) == '\t' || s.at(p) == '\n')) {
-                p++;
-            }
-            return p;
-        }
-
         private int subParams(int head) {
             int n = 0;
             boolean more = true;
             for (int i = 0; more && i <= FILESIZE; i++) {
                 s.blanks();
                 int place = s.here();
-                int name = s.name(" ", g.names);
+                int name = s.take(s.nameEnd(" "), g.names);
                 if (g.paramOf(head, name) != NONE) {
                     s.fail(3, place);
                 }
@@ -2058,6 +2082,7 @@ public final class TemplateHouse {
         private final int[] step = new int[9];
         private int deep = 0;
         private int firstDef = 0;
+        private boolean hasBody = false;
 
         FileReader(byte[][] allFiles, int[] allSizes, Source source, Gen gen) {
             g = gen;
@@ -2067,26 +2092,32 @@ public final class TemplateHouse {
             t = new TextReader(source, gen);
         }
 
-        /** Reads file k, then each file that it imports with what that imports. */
-        void readAll(Gen gen, int k) {
+        /** File k is read, then each file that it imports with what that imports. */
+        void openAll(Gen gen, int k) {
             g = gen;
             g.forget();
             deep = 0;
-            readFile(k);
-            for (int i = 0; i < 1000 && deep > 0; i++) {
+            hasBody = false;
+            openFile(k);
+        }
+
+        /** Whether a definition stands ahead, in this file or in one that is opened for it. */
+        boolean isMore() {
+            s.skip();
+            for (int i = 0; i < 1000 && deep > 0 && s.pos >= s.lim; i++) {
                 int f = get(way, deep - 1);
                 int n = get(step, deep - 1);
                 if (n >= get(g.imports.directs, f)) {
                     deep--;
                 } else {
                     set(step, deep - 1, n + 1);
-                    readFile(get(g.imports.direct, 8 * f + n));
+                    openFile(get(g.imports.direct, 8 * f + n));
                 }
             }
-            g.imports.layWays();
+            return s.pos < s.lim;
         }
 
-        private void readFile(int f) {
+        private void openFile(int f) {
             if (f < 0 || f >= files.length || g.imports.wasRead(f) || deep > 8) {
                 return;
             }
@@ -2098,11 +2129,6 @@ public final class TemplateHouse {
             t.openFile(g);
             firstDef = g.defCount;
             head();
-            s.skip();
-            for (int i = 0; i <= FILESIZE && s.pos < s.lim; i++) {
-                definition();
-                s.skip();
-            }
         }
 
         private void head() {
@@ -2157,13 +2183,14 @@ public final class TemplateHouse {
             return c;
         }
 
-        private void definition() {
+        /** The definition at hand, but for the TEXT of its BODY. */
+        void definition() {
             int place = s.pos;
             if (s.peek() == '@') {
                 regionFilled(place);
                 return;
             }
-            int name = s.name(FILEWORDS, g.names);
+            int name = s.take(s.nameEnd(FILEWORDS), g.names);
             for (int i = firstDef; i < g.defCount; i++) {
                 int at = i * Gen.DEFSIZE;
                 if (get(g.defs, at) != REGION && get(g.defs, at + 2) == name) {
@@ -2186,7 +2213,7 @@ public final class TemplateHouse {
                 dictionary(def, name);
             } else {
                 int target = s.pos;
-                int to = s.name(FILEWORDS, g.names);
+                int to = s.take(s.nameEnd(FILEWORDS), g.names);
                 int def = g.newDef(ALIAS, s.file, name, place);
                 set(g.defs, def + 4, to);
                 set(g.defs, def + 6, target);
@@ -2208,11 +2235,11 @@ public final class TemplateHouse {
             }
             s.pos++;
             s.skip();
-            int template = s.name(FILEWORDS, g.names);
+            int template = s.take(s.nameEnd(FILEWORDS), g.names);
             s.sign('.');
             s.skip();
             int second = s.pos;
-            int name = s.name(FILEWORDS, g.names);
+            int name = s.take(s.nameEnd(FILEWORDS), g.names);
             for (int i = firstDef; i < g.defCount; i++) {
                 int at = i * Gen.DEFSIZE;
                 if (get(g.defs, at) == REGION && get(g.defs, at + 2) == template
@@ -2230,13 +2257,36 @@ public final class TemplateHouse {
             t.define(REGION, template, name);
             set(g.defs, def + 4, g.codeEnd);
             g.emit(s.file, NONE, 0);
-            t.body();
-            s.closeBody();
+        }
+
+        /** The TEXT of the BODY of that definition, if it has one. */
+        void body() {
+            if (hasBody) {
+                hasBody = false;
+                t.body();
+                s.closeBody();
+            }
         }
 
         private void template(int def, int name) {
             s.pos++;
-            params();
+            params = 0;
+            s.skip();
+            boolean hadDefault = false;
+            boolean more = s.peek() != ')';
+            for (int i = 0; more && i < FILESIZE; i++) {
+                s.skip();
+                boolean hasDefault = param(hadDefault);
+                if (hasDefault) {
+                    hadDefault = true;
+                    s.skip();
+                    int v = s.peek() == '[' ? emptyList() : constant(false);
+                    set(defaults, params - 1, v == SUB ? SUB | t.constantSub() : v);
+                    s.skip();
+                }
+                more = s.peek() == ',';
+                s.pos += more ? 1 : 0;
+            }
             s.sign(')');
             becomes();
             openBody();
@@ -2246,35 +2296,21 @@ public final class TemplateHouse {
                 g.emit(get(names, i), get(defaults, i));
             }
             t.define(TEMPLATE, name, NONE);
-            t.body();
-            s.closeBody();
         }
 
-        private void params() {
-            params = 0;
+        /** A PARAM: whether a DEFAULT follows. */
+        private boolean param(boolean hadDefault) {
+            int place = s.pos;
+            int name = s.take(s.nameEnd(FILEWORDS), g.names);
+            int behind = s.past(s.pos);
+            boolean isLast = behind == NONE || s.at(behind) != '=';
+            checkParam(name, place, hadDefault && isLast);
+            set(names, params, name);
+            set(defaults, params, BARE);
+            params++;
             s.skip();
-            boolean hadDefault = false;
-            boolean more = s.peek() != ')';
-            for (int i = 0; more && i < FILESIZE; i++) {
-                s.skip();
-                int place = s.pos;
-                int name = s.name(FILEWORDS, g.names);
-                int behind = s.past(s.pos);
-                boolean isLast = behind == NONE || s.at(behind) != '=';
-                checkParam(name, place, hadDefault && isLast);
-                set(names, params, name);
-                set(defaults, params, BARE);
-                params++;
-                s.skip();
-                if (!isLast) {
-                    hadDefault = true;
-                    s.pos++;
-                    defaultOf(params - 1);
-                    s.skip();
-                }
-                more = s.peek() == ',';
-                s.pos += more ? 1 : 0;
-            }
+            s.pos += isLast ? 0 : 1;
+            return !isLast;
         }
 
         private void checkParam(int name, int place, boolean lacksDefault) {
@@ -2291,29 +2327,20 @@ public final class TemplateHouse {
             }
         }
 
-        private void defaultOf(int param) {
-            s.skip();
-            int v = BARE;
-            if (s.peek() == '[') {
-                s.pos++;
-                s.sign(']');
-                v = ROW;
-            } else {
-                v = constant(false);
-            }
-            set(defaults, param, v);
+        /** The DEFAULT [ ] . */
+        private int emptyList() {
+            s.pos++;
+            s.sign(']');
+            return ROW;
         }
 
-        /** A STRING, SUB, true, false, perhaps key, as a value. */
+        /** A STRING, true, false, perhaps key, as a value; SUB if one stands here, unread. */
         private int constant(boolean mayBeKey) {
             if (s.peek() == '"') {
-                return s.string(g);
+                return s.string(g, s.stringEnd());
             }
             if (s.peek() == '{') {
-                int head = g.codeEnd;
-                t.define(DICT, NONE, NONE);
-                t.sub(1);
-                return SUB | head;
+                return SUB;
             }
             int to = s.rowEnd(s.pos);
             boolean isTrue = s.isHere(to, "true");
@@ -2337,6 +2364,7 @@ public final class TemplateHouse {
                 s.sign(':');
                 s.skip();
                 int v = constant(true);
+                v = v == SUB ? SUB | t.constantSub() : v;
                 if (isLast) {
                     otherwise = v;
                 } else {
@@ -2367,7 +2395,7 @@ public final class TemplateHouse {
 
         private int newKey() {
             int place = s.pos;
-            int key = s.string(g);
+            int key = s.string(g, s.stringEnd());
             for (int i = 0; i < entries; i++) {
                 if (g.sameString(get(keys, i), key)) {
                     s.fail(3, place);
@@ -2378,6 +2406,7 @@ public final class TemplateHouse {
 
         /** Finds where the BODY at hand ends, and turns to its TEXT. */
         private void openBody() {
+            hasBody = true;
             s.skip();
             int from = s.pos + 2;
             if (s.peek() == '"') {
@@ -2421,6 +2450,7 @@ public final class TemplateHouse {
 
         void checkAll(Gen gen) {
             g = gen;
+            g.imports.layWays();
             nameAll();
             for (int i = 0; i < g.imports.reads; i++) {
                 file = get(g.imports.read, i);
@@ -2668,13 +2698,13 @@ public final class TemplateHouse {
         }
 
         void noteError(int number, int file, int place) {
-            int n = get(counts, 0);
-            if (n < 400) {
-                set(errors, 3 * n, number);
-                set(errors, 3 * n + 1, file);
-                set(errors, 3 * n + 2, place);
+            int at = 3 * counts[0];
+            if (at >= 0 && at + 2 < errors.length) {
+                errors[at] = number;
+                errors[at + 1] = file;
+                errors[at + 2] = place;
             }
-            set(counts, 0, n + 1);
+            counts[0]++;
         }
 
         void noteLook(int bean, int which) {
@@ -2771,6 +2801,7 @@ public final class TemplateHouse {
             return ROW | at;
         }
 
+        /** Room for a LIST of n values, counted all at once. */
         int newRow(int n) {
             counted(n);
             return room(n);
@@ -2797,11 +2828,15 @@ public final class TemplateHouse {
         }
 
         boolean isHouse(int v, int sort) {
-            return v >= 0 && v < 500 && store.is(v, sort);
+            return v >= 0 && v < store.count && v < store.sort.length && store.sort[v] == sort;
         }
 
+        /** Whether it is a LIST or a MAP. */
         boolean isMany(int v) {
-            return sortOf(v) == ROW || isHouse(v, LIST) || isHouse(v, MAP);
+            if (v < 0 || v >= store.count || v >= store.sort.length) {
+                return v >= 0 && (v & ~REST) == ROW;
+            }
+            return store.sort[v] == LIST || store.sort[v] == MAP;
         }
 
         /** How many VALUES ONE BY ONE one that is no DICTIONARY has. */
@@ -2972,7 +3007,6 @@ public final class TemplateHouse {
         private static final int MOST = 12000;
         private static final int WORDMOST = 1000;
         private final Teller teller;
-        private final int[] places;
         final byte[] text = new byte[MOST];
         final int[] noted = new int[3 * MOST];
         int length = 0;
@@ -2993,7 +3027,6 @@ public final class TemplateHouse {
         Writer(Teller t, Gen g) {
             teller = t;
             pool = g.pool;
-            places = g.places;
         }
 
         void forget(Gen g, int aWidth) {
@@ -3131,7 +3164,7 @@ public final class TemplateHouse {
             writer = new Writer(teller, gen);
         }
 
-        void makeAll(Gen gen, int text, Added added, int width) {
+        void makeAll(Gen gen, int text, int width) {
             g = gen;
             teller.forget();
             heap.forget(gen);
@@ -3144,8 +3177,20 @@ public final class TemplateHouse {
             ended = false;
             plain();
             try {
-                root(text, added);
-                go();
+                root(text);
+                for (int i = 0; i < 2000000000 && begun > 0; i++) {
+                    int kind = get(frames, begun - 1);
+                    int op = get(g.code, pc);
+                    if (kind != IN_TEXT) {
+                        goOn(kind);
+                    } else if (op <= PART) {
+                        textStep(op);
+                    } else if (op <= TRIM) {
+                        valueStep(op);
+                    } else {
+                        otherStep(op);
+                    }
+                }
             } catch (IllegalStateException full) {
                 tell(8, element);
                 ended = true;
@@ -3163,12 +3208,14 @@ public final class TemplateHouse {
             teller.noteError(number, get(g.code, get(heap.text, self)), place);
         }
 
-        private void root(int text, Added added) {
+        private void root(int text) {
+            Store store = heap.store;
             int instance = heap.make(text, NONE, UNGIVEN);
-            for (int i = 0; i < added.count; i++) {
-                if (!added.isLater(i)) {
-                    int v = valueAdded(added, i);
-                    int name = g.names.find(added.names, i * NAMELENGTH, get(added.lengths, i));
+            for (int i = 0; i < store.addedCount; i++) {
+                if (!store.isLater(i)) {
+                    int v = valueAdded(i);
+                    int name = g.names.find(store.addedNames, i * NAMELENGTH,
+                        get(store.addedLengths, i));
                     int param = g.paramOf(text, name);
                     if (param != NONE && name != NONE) {
                         set(heap.attrs, param, v);
@@ -3182,25 +3229,27 @@ public final class TemplateHouse {
             write(INSTANCE | instance);
         }
 
-        /** What was added by the name of the i-th: it, or the LIST of all of that name. */
-        private int valueAdded(Added added, int first) {
+        /** What was added by the name of this one: it, or the LIST of all of that name. */
+        private int valueAdded(int first) {
+            Store store = heap.store;
             int many = 0;
             int n = 0;
-            for (int i = first; i < added.count; i++) {
-                if (added.sameName(first, i)) {
-                    int v = get(added.values, i);
+            for (int i = first; i < store.addedCount; i++) {
+                if (store.sameName(first, i)) {
+                    int v = get(store.addedValues, i);
                     many++;
                     n += heap.isHouse(v, LIST) ? heap.countOf(v) : 1;
                 }
             }
             if (many < 2) {
-                return get(added.values, first);
+                return get(store.addedValues, first);
             }
             int row = heap.newRow(n);
             n = 0;
-            for (int i = first; i < added.count; i++) {
-                if (added.sameName(first, i)) {
-                    n = spread(row, n, get(added.values, i), heap.isHouse(get(added.values, i), LIST), FILESIZE);
+            for (int i = first; i < store.addedCount; i++) {
+                if (store.sameName(first, i)) {
+                    int v = get(store.addedValues, i);
+                    n = spread(row, n, v, heap.isHouse(v, LIST), FILESIZE);
                 }
             }
             return row;
@@ -3215,24 +3264,6 @@ public final class TemplateHouse {
                 n++;
             }
             return n;
-        }
-
-        private void go() {
-            for (int i = 0; i < 2000000000 && begun > 0; i++) {
-                int kind = get(frames, begun - 1);
-                if (kind == IN_TEXT) {
-                    int op = get(g.code, pc);
-                    if (op <= PART) {
-                        textStep(op);
-                    } else if (op <= TRIM) {
-                        valueStep(op);
-                    } else {
-                        otherStep(op);
-                    }
-                } else {
-                    goOn(kind);
-                }
-            }
         }
 
         private int code(int i) {
@@ -3407,8 +3438,7 @@ public final class TemplateHouse {
                 plain();
                 counted();
             }
-            v = heap.opened(v);
-            if (heap.isMany(v)) {
+            if (heap.isMany(v) || Heap.sortOf(v) == DICTIONARY) {
                 start(v);
                 start(0);
                 start(0);
@@ -3449,9 +3479,13 @@ public final class TemplateHouse {
         /** The next value of a LIST, or the separator ahead of it; its frame has the LIST, how
          * many were taken, and 1 if one was written, 2 more if the separator was. */
         private void listStep() {
-            int list = get(frames, begun - 4);
             int i = get(frames, begun - 3);
             int state = get(frames, begun - 2);
+            int list = get(frames, begun - 4);
+            if (Heap.sortOf(list) == DICTIONARY) {
+                list = heap.opened(list);
+                set(frames, begun - 4, list);
+            }
             if (i >= heap.countOf(list)) {
                 begun -= 4;
                 return;
@@ -3594,7 +3628,7 @@ public final class TemplateHouse {
                 case BLOCK: push(INSTANCE | heap.make(pc + 2, self, NONE)); pc = code(1); break;
                 case ITEMS: items(); break;
                 case CALL: push(INSTANCE | called(code(1), 3, UNGIVEN)); pc += 7; break;
-                case CALLBY: calledBy(); break;
+                case CALLBY: calledBy(called(get(stack, top - code(2) - 1), 1, UNGIVEN)); break;
                 case NAMED: pc += 4; break;
                 case FIND: find(); break;
                 case DOT: dot(); break;
@@ -3618,7 +3652,7 @@ public final class TemplateHouse {
                 case NEXT: next(); break;
                 case EACHSUB: eachSub(); break;
                 case EACHCALL: collect(INSTANCE | called(code(1), 3, current())); break;
-                case EACHBY: eachBy(); break;
+                case EACHBY: collect(INSTANCE | called(eachText(), 1, current())); break;
                 case ZIP: zip(); break;
                 case OPTION: option(); break;
                 case FORMAT: format(); break;
@@ -3704,9 +3738,8 @@ public final class TemplateHouse {
             return instance;
         }
 
-        private void calledBy() {
-            int text = get(stack, top - code(2) - 1);
-            int instance = called(text, 1, UNGIVEN);
+        /** This INSTANCE takes the place of its text. */
+        private void calledBy(int instance) {
             pop();
             push(INSTANCE | instance);
             pc += 5;
@@ -4009,9 +4042,9 @@ public final class TemplateHouse {
             collect(INSTANCE | instance);
         }
 
-        private void eachBy() {
-            int text = get(stack, loop + SLOTS + code(5));
-            collect(INSTANCE | called(text, 1, current()));
+        /** The text of the APPLIED by name at hand. */
+        private int eachText() {
+            return get(stack, loop + SLOTS + code(5));
         }
 
         /** MEMBER, MEMBER .. : SUB */
