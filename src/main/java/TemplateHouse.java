@@ -203,6 +203,8 @@ public final class TemplateHouse {
             reader.openAll(spare, k);
             for (int i = 0; i < 1000000 && reader.isMore(); i++) {
                 reader.definition();
+                reader.params();
+                reader.entries();
                 reader.body();
             }
             checker.checkAll(spare);
@@ -1028,6 +1030,11 @@ public final class TemplateHouse {
             return p;
         }
 
+        boolean isName(int to, Names names, int name) {
+            int n = names.lengthOf(name);
+            return to - pos == n && same(src, pos, names.bytes, get(names.from, name), n);
+        }
+
         boolean isHere(int to, String s) {
             return isText(src, pos, to - pos, s);
         }
@@ -1098,18 +1105,20 @@ public final class TemplateHouse {
         /** Behind BLANKS and COMMENTS from p on; NONE if a COMMENT lacks its end. */
         int past(int from) {
             int p = from;
-            for (int i = 0; i <= FILESIZE && p < lim; i++) {
-                int c = at(p);
-                if (c == '/' && at(p + 1) == '/') {
-                    while (p < lim && at(p) != '\n') {
+            for (int i = 0; i <= FILESIZE && p >= 0 && p < lim && p < src.length; i++) {
+                int c = src[p];
+                int d = p + 1 < lim && p + 1 < src.length ? src[p + 1] : -1;
+                if (c == '/' && d == '/') {
+                    while (p < lim && p < src.length && src[p] != '\n') {
                         p++;
                     }
-                } else if (c == '/' && at(p + 1) == '*') {
+                } else if (c == '/' && d == '*') {
                     p += 2;
-                    while (p < lim && (at(p) != '*' || at(p + 1) != '/')) {
+                    while (p + 1 < lim && p + 1 < src.length
+                        && (src[p] != '*' || src[p + 1] != '/')) {
                         p++;
                     }
-                    if (p >= lim) {
+                    if (p + 1 >= lim) {
                         return NONE;
                     }
                     p += 2;
@@ -1192,21 +1201,16 @@ public final class TemplateHouse {
             firstPart = g.partCount;
         }
 
-        /** A SUB outside of BODYs: where its code is. */
-        int constantSub() {
+        /** A SUB outside of BODYs follows. */
+        void startConstant() {
             define(DICT, NONE, NONE);
             inSub = false;
-            int head = g.codeEnd;
-            sub(1);
-            return head;
         }
 
-        /** The TEXT of a BODY, its code without a head. */
-        void body() {
+        /** The TEXT of a BODY follows. */
+        void startText() {
             inSub = false;
             lineStart = true;
-            text(0, ALONE);
-            g.emit(END);
         }
 
         private int text(int depth, int within) {
@@ -1501,9 +1505,10 @@ public final class TemplateHouse {
                 s.fail(1, s.here());
             }
             int at = s.here();
-            if (to - s.pos > NAMELENGTH || s.take(s.nameEnd(TAGWORDS), g.names) != filled) {
+            if (!s.isName(to, g.names, filled)) {
                 s.fail(1, sign);
             }
+            s.pos = to;
             s.need('(');
             s.need(')');
             s.need(close);
@@ -1962,7 +1967,25 @@ public final class TemplateHouse {
             s.pos++;
             int head = g.codeEnd;
             g.emit(s.file, NONE, 0);
-            int n = isParamsAhead() ? subParams(head) : 0;
+            int n = 0;
+            boolean more = isParamsAhead();
+            for (int i = 0; more && i <= FILESIZE; i++) {
+                s.blanks();
+                int place = s.here();
+                int name = s.take(s.nameEnd(" "), g.names);
+                if (g.paramOf(head, name) != NONE) {
+                    s.fail(3, place);
+                }
+                if (n >= PARAMS) {
+                    s.fail(4, place);
+                }
+                g.emit(name, BARE);
+                n++;
+                set(g.code, head + 2, n);
+                s.blanks();
+                more = s.peek() == ',';
+                s.pos++;
+            }
             boolean outer = inSub;
             inSub = true;
             lineStart = true;
@@ -1991,29 +2014,6 @@ public final class TemplateHouse {
                 p++;
             }
             return false;
-        }
-
-        private int subParams(int head) {
-            int n = 0;
-            boolean more = true;
-            for (int i = 0; more && i <= FILESIZE; i++) {
-                s.blanks();
-                int place = s.here();
-                int name = s.take(s.nameEnd(" "), g.names);
-                if (g.paramOf(head, name) != NONE) {
-                    s.fail(3, place);
-                }
-                if (n >= PARAMS) {
-                    s.fail(4, place);
-                }
-                g.emit(name, BARE);
-                n++;
-                set(g.code, head + 2, n);
-                s.blanks();
-                more = s.peek() == ',';
-                s.pos++;
-            }
-            return n;
         }
 
         private void either(int depth) {
@@ -2082,6 +2082,9 @@ public final class TemplateHouse {
         private final int[] step = new int[9];
         private int deep = 0;
         private int firstDef = 0;
+        // The definition at hand, and what of it is still to be read.
+        private int def = 0;
+        private int ahead = NONE;
         private boolean hasBody = false;
 
         FileReader(byte[][] allFiles, int[] allSizes, Source source, Gen gen) {
@@ -2097,6 +2100,7 @@ public final class TemplateHouse {
             g = gen;
             g.forget();
             deep = 0;
+            ahead = NONE;
             hasBody = false;
             openFile(k);
         }
@@ -2183,7 +2187,7 @@ public final class TemplateHouse {
             return c;
         }
 
-        /** The definition at hand, but for the TEXT of its BODY. */
+        /** The definition at hand, but for its PARAMs, ENTRYs and the TEXT of its BODY. */
         void definition() {
             int place = s.pos;
             if (s.peek() == '@') {
@@ -2202,19 +2206,19 @@ public final class TemplateHouse {
             }
             s.skip();
             if (s.peek() == '(') {
-                int def = g.newDef(TEMPLATE, s.file, name, place);
-                template(def, name);
+                def = g.newDef(TEMPLATE, s.file, name, place);
+                ahead = TEMPLATE;
                 return;
             }
             becomes();
             s.skip();
             if (s.peek() == '[') {
-                int def = g.newDef(DICT, s.file, name, place);
-                dictionary(def, name);
+                def = g.newDef(DICT, s.file, name, place);
+                ahead = DICT;
             } else {
                 int target = s.pos;
                 int to = s.take(s.nameEnd(FILEWORDS), g.names);
-                int def = g.newDef(ALIAS, s.file, name, place);
+                def = g.newDef(ALIAS, s.file, name, place);
                 set(g.defs, def + 4, to);
                 set(g.defs, def + 6, target);
             }
@@ -2247,7 +2251,7 @@ public final class TemplateHouse {
                     s.fail(3, second);
                 }
             }
-            int def = g.newDef(REGION, s.file, template, place);
+            def = g.newDef(REGION, s.file, template, place);
             set(g.defs, def + 5, name);
             set(g.defs, def + 6, second);
             s.sign('(');
@@ -2263,12 +2267,19 @@ public final class TemplateHouse {
         void body() {
             if (hasBody) {
                 hasBody = false;
-                t.body();
+                t.startText();
+                t.text(0, TextReader.ALONE);
+                g.emit(END);
                 s.closeBody();
             }
         }
 
-        private void template(int def, int name) {
+        /** The PARAMs of that definition, if it is a TEMPLATE. */
+        void params() {
+            if (ahead != TEMPLATE) {
+                return;
+            }
+            ahead = NONE;
             s.pos++;
             params = 0;
             s.skip();
@@ -2281,7 +2292,12 @@ public final class TemplateHouse {
                     hadDefault = true;
                     s.skip();
                     int v = s.peek() == '[' ? emptyList() : constant(false);
-                    set(defaults, params - 1, v == SUB ? SUB | t.constantSub() : v);
+                    if (v == SUB) {
+                        v = SUB | g.codeEnd;
+                        t.startConstant();
+                        t.sub(1);
+                    }
+                    set(defaults, params - 1, v);
                     s.skip();
                 }
                 more = s.peek() == ',';
@@ -2290,6 +2306,7 @@ public final class TemplateHouse {
             s.sign(')');
             becomes();
             openBody();
+            int name = get(g.defs, def + 2);
             set(g.defs, def + 4, g.codeEnd);
             g.emit(s.file, name, params);
             for (int i = 0; i < params; i++) {
@@ -2352,7 +2369,12 @@ public final class TemplateHouse {
             return isKey ? ITSELF : isTrue ? YES : NO;
         }
 
-        private void dictionary(int def, int name) {
+        /** The ENTRYs of that definition, if it is a DICTIONARY. */
+        void entries() {
+            if (ahead != DICT) {
+                return;
+            }
+            ahead = NONE;
             s.pos++;
             entries = 0;
             otherwise = BARE;
@@ -2364,7 +2386,11 @@ public final class TemplateHouse {
                 s.sign(':');
                 s.skip();
                 int v = constant(true);
-                v = v == SUB ? SUB | t.constantSub() : v;
+                if (v == SUB) {
+                    v = SUB | g.codeEnd;
+                    t.startConstant();
+                    t.sub(1);
+                }
                 if (isLast) {
                     otherwise = v;
                 } else {
@@ -2378,7 +2404,7 @@ public final class TemplateHouse {
             }
             s.sign(']');
             set(g.defs, def + 4, g.codeEnd);
-            g.emit(s.file, name, entries, otherwise);
+            g.emit(s.file, get(g.defs, def + 2), entries, otherwise);
             for (int i = 0; i < entries; i++) {
                 g.emit(get(keys, i), get(contents, i));
             }
@@ -2765,11 +2791,12 @@ public final class TemplateHouse {
             text[made] = aText;
             parent[made] = aParent;
             turn[made] = 0;
-            for (int i = 0; i < PARAMS; i++) {
-                set(attrs, made * PARAMS + i, each);
+            int first = made * PARAMS;
+            for (int i = 0; i < PARAMS && first + i < attrs.length; i++) {
+                attrs[first + i] = each;
             }
             made++;
-            set(teller.counts, 2, made);
+            teller.counts[2] = made;
             return made - 1;
         }
 
@@ -2792,11 +2819,11 @@ public final class TemplateHouse {
             if (n <= 0) {
                 return ROW;
             }
-            if (rowsEnd + n + 1 > rows.length) {
+            int at = rowsEnd;
+            if (at < 0 || at >= rows.length - n) {
                 throw new IllegalStateException();
             }
-            int at = rowsEnd;
-            set(rows, at, n);
+            rows[at] = n;
             rowsEnd += n + 1;
             return ROW | at;
         }
@@ -3786,7 +3813,7 @@ public final class TemplateHouse {
                 heap.spelled = g.names.bytes;
                 heap.from = get(g.names.from, name);
                 heap.length = g.names.lengthOf(name);
-                push(dotted(v, CALLED | name, code(2)));
+                push(heap.opened(dotted(v, CALLED | name, code(2))));
             }
             pc += 3;
         }
@@ -3799,7 +3826,7 @@ public final class TemplateHouse {
                 int name = g.names.find(heap.words, heap.from, heap.length);
                 push(ofInstance(v, name, code(1)));
             } else {
-                push(dotted(v, word, code(1)));
+                push(heap.opened(dotted(v, word, code(1))));
             }
             pc += 2;
         }
@@ -3813,7 +3840,8 @@ public final class TemplateHouse {
             return own;
         }
 
-        /** What MEMBER . NAME is, the name being what was spelled. */
+        /** What MEMBER . NAME is, the name being what was spelled; a DICTIONARY stands for the
+         * LIST of its values. */
         private int dotted(int v, int word, int place) {
             if (heap.isHouse(v, MAP)) {
                 return ofMap(v);
@@ -3873,7 +3901,7 @@ public final class TemplateHouse {
                 return heap.content(otherwise, word);
             }
             if (isSpelled("values")) {
-                return heap.opened(DICTIONARY | at);
+                return DICTIONARY | at;
             }
             if (!isSpelled("keys")) {
                 return NONE;
