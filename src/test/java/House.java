@@ -154,6 +154,6 @@ final class House {
     /** As main(), with the ERRORS and how many INSTANCES there were. */
     String all(String source) {
         String text = main(source);
-        return text + " |" + errors() + "|" + x.look(6) + "|" + x.look(7);
+        return text + "|" + errors() + "|" + x.look(6) + "|" + x.look(7);
     }
 }

@@ -1,0 +1,243 @@
+/** How a text is written (promises 19 to 25), and the bounds that the document names. */
+public final class WriteTest {
+    public static void main(String[] args) {
+        bodies();
+        linesOfTags();
+        emptyLines();
+        indents();
+        anchors();
+        wraps();
+        separators();
+        formats();
+        tags();
+        manyInstances();
+        manyValues();
+        manyBytes();
+        manyWords();
+        manyLists();
+        tellings();
+        deep();
+        House.over();
+    }
+
+    private static void is(String source, String due) {
+        House h = house();
+        House.due(source, h.main(source), due);
+        House.due("errors of " + source, h.errors(), "");
+    }
+
+    /** l: 1, NOTHING, 3; a: "x", NEWLINE, "y". */
+    private static House house() {
+        House h = new House();
+        int one = h.x.number(1);
+        int three = h.x.number(3);
+        h.attribute("l", h.list(one, -1, three)).attribute("a", h.word("x\ny"));
+        return h;
+    }
+
+    private static void bodies() {
+        is("main() ::= \" a \\n\"", " a \\n");
+        is("main() ::= <<\n\n a\n\n>>", "\n a\n");
+        is("main() ::= <<\n>>", "");
+        is("main() ::= <<>>", "");
+        is("main() ::= <%\n  a\n\t b \n\n c%>", "ab c");
+        is("main(a) ::= <%<tr\n  ue><'p\n  q'>%>", "truepq");
+        is("main() ::= \"\\<a\\>\\\\}\\}\\\"", "<a\\>\\}}\\");
+        is("delimiters \"$\", \"$\" main() ::= \"<$true$>\\$\\<\"", "<true>$\\<");
+        is("delimiters \"%\", \"#\" main() ::= \"%{x|%true#\\}\\%}#\"", "true}%");
+    }
+
+    private static void linesOfTags() {
+        is("main(a) ::= <<\n1\n  <if(a)> \t\n2\n <else>\n3\n<endif>\n4\n>>", "1\n2\n4");
+        is("main(a) ::= <<\n<if(n)>\n2\n<elseif(a)>\n3\n <endif>\n>>".replace("main(a)", "main(a,n)"), "3\n");
+        is("main(a) ::= <<\n1\n <@r>\n 2\n <@end>\n3\n <!c\nc!>\n4\n>>", "1\n 2\n3\n4");
+        is("main(a) ::= <<\n <if(a)>1<endif>\n<!c!>x\n<!c!><!d!>\n.>>", " 1\nx\n\n.");
+        is("main() ::= <<\n<{  <if(true)>\n  1\n  <endif> }>>>".replace(">>>", ">\n>>"), "  1\n");
+        is("main() ::= <<\n<@r()> \n1\n>>", " \n1");
+        is("main() ::= <<\n1 <\\\\> \n  2<\\\\>\n<if(true)>\n3<endif>\n>>", "1 2\n3");
+    }
+
+    private static void emptyLines() {
+        is("main(n) ::= <<\n1\n<n>\n<n><n>\n2\n <n> \n3\n>>", "1\n2\n \n3");
+        is("main(n) ::= <<\n1\n\n<n>.\n<if(n)>x<endif>\n<@r()>\n2\n>>", "1\n\n.\n2");
+        is("main(a) ::= <<\n<if(a)>\n<endif>\n\n2\n>>", "2");
+        is("main(a) ::= <<\n<if(a)>\n.\n<endif>\n\n2\n>>", ".\n\n2");
+        is("main(n) ::= <<\n<n><\\n>\n<n>\n2\n>>", "\n\n2");
+        is("main(n) ::= <<\n<({<n>\n<n>.\n<n>\n})>|\n>>", ".\n|");
+        is("t() ::= <<\n\n\n>> main() ::= <<\n<t()>\n.\n>>", "\n\n.");
+    }
+
+    private static void indents() {
+        is("main(a) ::= <<\n  <a>\n\t<a> <a>\n>>", "  x\n  y\n\tx\n\ty x\ny");
+        is("t(a) ::= <<\n <a>\n<a>\n>> main(a) ::= <<\n  <t(a)>.\n>>", "   x\n   y\n  x\n  y.");
+        is("main(a) ::= <<\n  <@r()>\n.\n>> @main.r() ::= <<\n <a>\n>>", "   x\n   y\n.");
+        is("main(a) ::= <<\n <({\n  <a>\n})>\n>>", "\n   x\n   y\n");
+        is("main(l) ::= <<\n <l; separator={\n}>\n>>", " 1\n 3");
+        is("main(a) ::= \"<{  <a>}>\"", "  x\n  y");
+        is("main(a) ::= \".<{  <a>}>\"", ".x\n  y");
+        is("main() ::= <<\n  <{\n\n\n1}>\n>>", "\n\n\n  1");
+    }
+
+    private static void anchors() {
+        is("main(a) ::= \"ab<a; anchor>c<a>\"", "abx\n  ycx\ny");
+        is("main(a) ::= \"ab<a; anchor=false><a; anchor=a>\"", "abx\nyx\n y");
+        is("main(a) ::= \"ab<{<a; anchor>:<a>}; anchor>\"", "abx\n  y:x\n  y");
+        is("main(a) ::= \"ab<{c<a; anchor><a>}; anchor>\"", "abcx\n   yx\n  y");
+        is("main(a) ::= \"ab<{<\\n><a; anchor>}; anchor>\"", "ab\nx\ny");
+        is("main(a) ::= <<\n a<{\n  <a>}; anchor>\n>>", " a\n  x\n  y");
+        is("main(a) ::= \"ab<({<a>}); anchor>\"", "abx\n  y");
+    }
+
+    private static void wraps() {
+        House h = house();
+        h.x.width(4);
+        House.due("ahead of bytes", h.main("main(l) ::= \"<['abc','de','f','g']; wrap>\""), "abcde\nfg");
+        House.due("other bytes", h.main("main(l) ::= \"<['abcd','e','f']; wrap='-'>\""), "abcd-e-f");
+        House.due("separators stay", h.main("main(l) ::= \"<['abcd','e','f']; wrap, separator=', '>\""), "abcd, \ne, f");
+        House.due("indents and anchors", h.main("main(l) ::= <<\n <['abcd','e','f']; wrap>\n.<{..<['abcd','e','f']; wrap, anchor>}>\n>>"),
+            " abcd\n ef\n...abcd\n   e\n   f");
+        House.due("an instance", h.main("main(l) ::= \"abcd<{ef}; wrap><{gh}; wrap>\""), "abcd\nefgh");
+        House.due("not at a beginning", h.main("main(l) ::= \"abcd<\\n><'e'; wrap>\""), "abcd\ne");
+        House.due("NOTHING", h.main("main(n) ::= \"abcd<n; wrap, null='x'><'y'; wrap=n>\""), "abcdxy");
+        House.due("at once", h.main("main(l) ::= \"abcd<''; wrap>\""), "abcd\n");
+        House.due("not in words", h.main("main(l) ::= \"<({abcd<'e'; wrap>})>\""), "abcde");
+        h.x.width(0);
+        House.due("without a width", h.main("main(l) ::= \"<['abcdefgh','i']; wrap>\""), "abcdefghi");
+    }
+
+    private static void separators() {
+        is("main(l,n) ::= \"<l; separator=','>,<l; separator=',', null='-'>,<l; separator=n, null=n>\"", "1,3,1,-,3,13");
+        is("main(l,n) ::= \"<[n,'',n,{},[],l]:{x|<x>}; separator='.'>\"", "..1.3");
+        is("main(l,n) ::= \"<[[],[l],['a']]; separator='.'>\"", "1.3.a");
+        is("main(l,n) ::= \"<n; null='N'>,<n; null=l>,<n; null={<true>}>,<n; null=n>\"", "N,13,true,");
+        is("main(l) ::= \"<l; separator=l>\"", "1133");
+        is("main(l) ::= \"<reverse(l); separator={<true>}>\"", "3true1");
+    }
+
+    private static void formats() {
+        House h = new House();
+        int neg = h.x.number(-7);
+        h.attribute("w", h.word("aZ<&>\" -_.%\u00e9")).attribute("n", neg).attribute("b", h.bean("bé"));
+        String t = "main(w,n,b,z) ::= \"%\"";
+        House.due("upper", h.main(t.replace("%", "<w; format='upper'>")), "AZ<&>\" -_.%\u00e9");
+        House.due("lower", h.main(t.replace("%", "<w; format='lower'>")), "az<&>\" -_.%\u00e9");
+        House.due("cap", h.main(t.replace("%", "<w; format='cap'><''; format='cap'><'-a'; format='cap'>")), "AZ<&>\" -_.%\u00e9-a");
+        House.due("xml", h.main(t.replace("%", "<w; format='xml'>")), "aZ&lt;&amp;&gt;&quot; -_.%\u00e9");
+        House.due("url", h.main(t.replace("%", "<w; format='url'>")), "aZ%3C%26%3E%22%20-_.%25%E9");
+        House.due("digits", h.main(t.replace("%", "<n; format='4'>|<n; format='04'>|<n; format='1'>|<'a'; format='12'>|<true; format='06'>|<n; format='0'>|<'-'; format='03'>")),
+            "  -7|-007|-7|           a|00true|-7|-00");
+        House.due("of each", h.main(t.replace("%", "<[n,'a']; format='3', separator='x'>")), " -7x  a");
+        House.due("not of an instance", h.main(t.replace("%", "<{a}; format='upper'><('a'); format={up<'per'>}>")), "aA");
+        House.due("NOTHING", h.all(t.replace("%", "<'a'; format=z>")), "a||1|2");
+        House.due("none such", h.all(t.replace("%", "<['a','b']; separator='-', format= 'Upper'>")), "a-b|9@0:54|1|2");
+        House.due("none such", h.main(t.replace("%", "<'a'; format='123'><'a'; format=''><'a'; format='1a'><'a'; format='up'>")), "aaaa");
+        House.due("errors", h.x.look(4), 4);
+    }
+
+    private static void tags() {
+        is("main() ::= \"<\\n><\\t><\\ ><\\n\\t\\ >\"", "\n\t \n\t ");
+        is("main() ::= \"a<!<x>}\\>!>b\"", "ab");
+        is("main() ::= \"< true ><[ true , false ] ; separator = '-' >< @ r ( ) >\"", "truetrue-false");
+        is("main() ::= \"<{x,y}><{x|y}><{|}><{ x , y |z}><{9|}>\"", "x,yy|z9|");
+    }
+
+    private static void manyInstances() {
+        House h = new House();
+        int[] hundred = new int[100];
+        java.util.Arrays.fill(hundred, h.x.truth(true));
+        h.attribute("l", h.list(hundred));
+        String s = "main(l) ::= \"<l:{x|<l:{y|.}>}>\"";
+        // the root, 100 of the outer list, 100 of each of 18 inner ones, 99 of the next one
+        House.due("2000", h.all(s), ".".repeat(1800) + "|8@0:19|2000|3");
+    }
+
+    private static void manyValues() {
+        House h = new House();
+        int[] hundred = new int[100];
+        java.util.Arrays.fill(hundred, -1);
+        int l = h.list(hundred);
+        java.util.Arrays.fill(hundred, l);
+        int m = h.list(hundred);
+        h.attribute("m", m);
+        // the root, then m: itself, 100 lists and 10000 values; so five of them and 9494 more
+        House.due("60000 values", h.all("main(m) ::= \".<m>.<m>.<m>.<m>.<m>.<m>\""), "......|8@0:34|1|3");
+        int[] most = new int[93];
+        java.util.Arrays.fill(most, l);
+        h.attribute("k", h.list(most));
+        most = new int[99];
+        java.util.Arrays.fill(most, -1);
+        h.attribute("q", h.list(most));
+        String s = "main(z) ::= \"<m><m><m><m><m><k><q>";
+        House.due("just 60000", h.all(s + "\""), "||1|2");
+        House.due("one more", h.all(s + "<z>\""), "|8@0:34|1|3");
+    }
+
+    private static void manyBytes() {
+        House h = new House();
+        StringBuilder s = new StringBuilder("main(w) ::= <<");
+        h.attribute("w", h.word("w".repeat(3000)));
+        s.append("<w><w><w><w>ab");
+        h.file(0, s + "\n>>");
+        h.load(0);
+        h.begin("main");
+        House.due("run", h.run(11999) + h.run(1), "00");
+        House.due("going on", h.x.look(7), 1);
+        House.due("no error yet", h.errors(), "");
+        House.due("run", h.run(1), "2");
+        House.due("ended", h.x.look(7) + " " + h.x.look(3) + " " + h.errors(), "3 12000 8@0:26");
+        House.due("run", h.run(1), "ISE");
+        House.due("12000 bytes", h.all("main(w) ::= \"<w><w><w><w><w; wrap, null=w>\"").length(), 12011);
+        House.due("the element", h.errors(), "8@0:25");
+    }
+
+    private static void manyWords() {
+        House h = new House();
+        h.attribute("w", h.word("w".repeat(1001)));
+        House.due("1000 bytes of a word", h.main("main(w) ::= \"<strlen(w)>,<strlen((w))><if(w)>.<endif><strlen(trim(w))>\""), "1000,1000.1000");
+        StringBuilder s = new StringBuilder("main(w) ::= \"");
+        for (int i = 0; i < 40; i++) {
+            s.append("<if(strlen(w))><endif>");
+        }
+        House.due("40000 bytes", h.all(s + "<strlen('')>\""), "0||1|2");
+        House.due("one more", h.all(s + "<if(strlen('a'))>x<endif>\""), "|8@0:" + s.length() + "|1|3");
+    }
+
+    private static void manyLists() {
+        House h = new House();
+        int[] hundred = new int[100];
+        java.util.Arrays.fill(hundred, h.x.truth(true));
+        int l = h.list(hundred);
+        h.attribute("l", l);
+        StringBuilder s = new StringBuilder("main(l) ::= \"");
+        for (int i = 0; i < 10; i++) {
+            s.append("<if([").append("reverse(l),".repeat(19)).append("])><endif>");
+        }
+        // each: 19 times 100, and 100 of its own
+        House.due("20000 values", h.all(s + "<[]>\""), "||1|2");
+        House.due("one more", h.all(s + "<if(l)><[l]><endif>\""), "|8@0:" + (s.length() + 7) + "|1|3");
+        House.due("of APPLIED, as they come", h.all(s + "<l:{x|<zz>}>\""), "|8@0:" + s.length() + "|2|3");
+    }
+
+    private static void tellings() {
+        House h = new House();
+        h.attribute("b", h.bean(""));
+        h.main("main(b) ::= \"" + "<b.p><b>".repeat(450) + "\"");
+        House.due("all errors", h.x.look(4), 450);
+        House.due("kept", h.x.error(399, 0) + " " + h.x.error(400, 0), "4 -1");
+        h.main("main(b) ::= \"" + "<[b,b,b,b]>".repeat(300) + "\"");
+        House.due("all looks", h.x.look(5), 1200);
+        House.due("kept", h.x.looked(999, 0) + " " + h.x.looked(1000, 0), "0 -2");
+    }
+
+    private static void deep() {
+        House h = new House();
+        int v = h.list(h.x.number(1), h.x.number(2));
+        for (int i = 0; i < 400; i++) {
+            v = h.list(v, 0);
+        }
+        h.attribute("l", v);
+        House.due("lists in lists", h.main("main(l) ::= \"<l; separator={.}>\""), "1.2" + ".1".repeat(400));
+        House.due("in instances", h.main("main(l) ::= \"<l; separator={<main(l)>}>\"").length() > 100, true);
+        House.due("words in words", h.main("main() ::= \"<((((((((((((((((((main()))))))))))))))))))>.\""), ".".repeat(30));
+    }
+}
