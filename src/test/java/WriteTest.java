@@ -117,7 +117,7 @@ public final class WriteTest {
     private static void formats() {
         House h = new House();
         int neg = h.x.number(-7);
-        h.attribute("w", h.word("aZ<&>\" -_.%\u00e9")).attribute("n", neg).attribute("b", h.bean("bé"));
+        h.attribute("w", h.word("aZ<&>\" -_.%\u00e9")).attribute("n", neg).attribute("b", h.bean("be"));
         String t = "main(w,n,b,z) ::= \"%\"";
         House.due("upper", h.main(t.replace("%", "<w; format='upper'>")), "AZ<&>\" -_.%\u00e9");
         House.due("lower", h.main(t.replace("%", "<w; format='lower'>")), "az<&>\" -_.%\u00e9");
