@@ -12,7 +12,6 @@ public final class TemplateHouse {
     // while a text is made or in a generation, have their sort in the bits from 27 on.
     private static final int SHIFT = 27;
     private static final int REST = (1 << SHIFT) - 1;
-    private static final int HOUSE = 0;
     private static final int NO = 1 << SHIFT;
     private static final int YES = NO + 1;
     private static final int COUNT = 2 << SHIFT;
@@ -91,8 +90,8 @@ public final class TemplateHouse {
     private static final int APPLIED = 8;
 
     // The words that are no NAMEs in a TAG, and their numbers.
-    private static final String TAGWORDS = "first last rest trunc strip reverse length strlen trim"
-        + " if elseif else endif super true false ";
+    private static final String TAGWORDS =
+        "first last rest trunc strip reverse length strlen trim if elseif else endif super true false ";
     private static final int W_LENGTH = 6;
     private static final int W_STRLEN = 7;
     private static final int W_TRIM = 8;
@@ -118,15 +117,15 @@ public final class TemplateHouse {
     private final byte[] ready = new byte[20];
     private final byte[] tape = new byte[FILESIZE];
     private int taped = 0;
-    private final byte[][] files = new byte[8][FILESIZE];
-    private final int[] sizes = new int[8];
-    private final Store store = new Store();
-    private final Source source = new Source();
-    private Gen now = new Gen();
-    private Gen spare = new Gen();
-    private final FileReader reader = new FileReader(files, sizes, source, spare);
-    private final Checker checker = new Checker(source, spare);
-    private final Maker maker = new Maker(store, now);
+    private final byte[][] files;
+    private final int[] sizes;
+    private final Store store;
+    private final Source source;
+    private Gen now;
+    private Gen spare;
+    private final FileReader reader;
+    private final Checker checker;
+    private final Maker maker;
     private int generations = 0;
     private int faultNumber = 0;
     private int faultFile = NONE;
@@ -136,6 +135,21 @@ public final class TemplateHouse {
     private int shown = 0;
 
     public TemplateHouse() {
+        byte[][] allFiles = new byte[8][FILESIZE];
+        int[] allSizes = new int[8];
+        Store values = new Store();
+        Source read = new Source();
+        Gen first = new Gen();
+        Gen second = new Gen();
+        files = allFiles;
+        sizes = allSizes;
+        store = values;
+        source = read;
+        now = first;
+        spare = second;
+        reader = new FileReader(allFiles, allSizes, read, second);
+        checker = new Checker(read, second);
+        maker = new Maker(values, first);
     }
 
     public void feed(int a, int b, int c, int d, int e) {
@@ -3163,7 +3177,7 @@ public final class TemplateHouse {
         private static final int BLANKS = 100;
         private static final int ZEROS = 200;
 
-        final Teller teller = new Teller();
+        final Teller teller;
         final Writer writer;
         private final Heap heap;
         private Gen g;
@@ -3186,9 +3200,11 @@ public final class TemplateHouse {
         int atFirst = 0;
 
         Maker(Store store, Gen gen) {
+            Teller aTeller = new Teller();
             g = gen;
-            heap = new Heap(store, teller, gen);
-            writer = new Writer(teller, gen);
+            teller = aTeller;
+            heap = new Heap(store, aTeller, gen);
+            writer = new Writer(aTeller, gen);
         }
 
         void makeAll(Gen gen, int text, int width) {
