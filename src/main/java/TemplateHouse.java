@@ -749,10 +749,8 @@ public final class TemplateHouse {
             return get(wayLengths, f);
         }
 
-        /** The way of file f: itself, then the ways of what it imports, each file once. */
+        /** The way of each file: itself, then the ways of what it imports, each file once. */
         void layWays() {
-            // What a file imports is read behind it or was read ahead; no order is sure, so
-            // each way is laid from its own file on.
             for (int i = 0; i < reads; i++) {
                 int f = get(read, i);
                 extend(ways, wayLengths, f, f, 0);
