@@ -241,6 +241,10 @@ def mutate(s):
     if R.random()<.15:
         ls=s.split('\n'); i=R.randrange(len(ls)); ls.insert(R.randrange(len(ls)+1),ls[i]); return '\n'.join(ls)
     if R.random()<.1:
+        ids=[m for m in re.finditer(r'::=|[:=,.()\[\]@]',s)]
+        if ids:
+            m=pick(*ids); return s[:m.start()]+pick('::=','::',':=',':',': :=','=','==',',',',,','.','...','(',')','[',']','@')+s[m.end():]
+    if R.random()<.1:
         n=R.randint(18,22); return s+'\nzz(a)::="'+pick('<if(a)>'*n+'<endif>'*n,'{'*n+'}'*n,''.join('<@q%d>'%i for i in range(n))+'<@end>'*n,'<'+'{<'*n+'a'+'>}'*n+'>','<a:'+'{<a:'*n+'{}'+'>}'*n+'>')+'"'
     return mutate0(s)
 def mutate0(s):

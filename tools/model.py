@@ -392,7 +392,8 @@ class FileParser:
     def ch(s): return chr(s.b[s.p]) if s.p<s.n else ''
     def need(s,w):
         s.sk()
-        if s.b[s.p:s.p+len(w)]!=w.encode(): s.F(1)
+        sign=s.b[s.p:s.p+3] if s.b[s.p:s.p+3]==b'::=' else s.b[s.p:s.p+1]
+        if sign!=w.encode(): s.F(1)
         s.p+=len(w)
     def word(s):
         return s.b[s.p:row(s.t,s.p)].decode()

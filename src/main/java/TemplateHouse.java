@@ -1151,13 +1151,27 @@ public final class TemplateHouse {
             pos = p;
         }
 
-        /** A sign outside of TEXTS, behind BLANKS and COMMENTS. */
+        /** A sign of one byte outside of TEXTS, behind BLANKS and COMMENTS; the : that ::= begins
+         * with is none. */
         void sign(int c) {
             skip();
-            if (peek() != c) {
+            if (peek() != c || isBecomes()) {
                 fail(1, pos);
             }
             pos++;
+        }
+
+        /** The sign ::= , likewise. */
+        void becomes() {
+            skip();
+            if (!isBecomes()) {
+                fail(1, pos);
+            }
+            pos += 3;
+        }
+
+        private boolean isBecomes() {
+            return at(pos) == ':' && at(pos + 1) == ':' && at(pos + 2) == '=';
         }
     }
 
@@ -2222,7 +2236,7 @@ public final class TemplateHouse {
                 ahead = TEMPLATE;
                 return;
             }
-            becomes();
+            s.becomes();
             s.skip();
             if (s.peek() == '[') {
                 def = g.newDef(DICT, s.file, name, place);
@@ -2234,15 +2248,6 @@ public final class TemplateHouse {
                 set(g.defs, def + 4, to);
                 set(g.defs, def + 6, target);
             }
-        }
-
-        /** The sign ::= . */
-        private void becomes() {
-            s.skip();
-            if (s.at(s.pos) != ':' || s.at(s.pos + 1) != ':' || s.at(s.pos + 2) != '=') {
-                s.fail(1, s.pos);
-            }
-            s.pos += 3;
         }
 
         private void regionFilled(int place) {
@@ -2268,7 +2273,7 @@ public final class TemplateHouse {
             set(g.defs, def + 6, second);
             s.sign('(');
             s.sign(')');
-            becomes();
+            s.becomes();
             openBody();
             t.define(REGION, template, name);
             set(g.defs, def + 4, g.codeEnd);
@@ -2316,7 +2321,7 @@ public final class TemplateHouse {
                 s.pos += more ? 1 : 0;
             }
             s.sign(')');
-            becomes();
+            s.becomes();
             openBody();
             int name = get(g.defs, def + 2);
             set(g.defs, def + 4, g.codeEnd);

@@ -116,6 +116,16 @@ public final class ReadTest {
         fault(1, "d ::= [default:true~, \"k\":true]");
         fault(1, "d ::= [\"k\":true ~\"l\":true]");
         fault(1, "d ::= [\"k\":true~");
+        fault(1, "d ::= [\"k\"~::=\"v\"]");
+        fault(1, "d ::= [\"k\" // c\n ~::= true]");
+        fault(1, "d ::= [default~::=key]");
+        fault(1, "d ::= [\"k\": ~::=true]");
+        fault(1, "d ::= [\"k\":~:true]");
+        fault(1, "d ::= [\"k\":~: =true]");
+        fault(1, "d ::= [\"k\":~=true]");
+        fault(1, "d ~::[\"k\":true]");
+        fault(1, "a(b~::=\"\") ::= \"\"");
+        fault(1, "a()::=~::=\"\"");
         fault(1, "a ::= ~\"x\"");
         fault(1, "@a ~b() ::= \"\"");
         fault(1, "@a.b(~c) ::= \"\"");
