@@ -3102,7 +3102,15 @@ public final class TemplateHouse {
             return (level - 1) * WORDMOST;
         }
 
+        /** Whether a WORD has all the bytes that it may have: nothing can change it any more. */
+        boolean isFull() {
+            return level > 0 && wordLength >= WORDMOST;
+        }
+
         void put(int b) {
+            if (isFull()) {
+                return;
+            }
             if (b == '\n') {
                 raw(b);
                 column = 0;
@@ -3638,7 +3646,7 @@ public final class TemplateHouse {
                     writer.put(format >= ZEROS ? '0' : ' ');
                 }
             }
-            while (i < n) {
+            while (i < n && !writer.isFull()) {
                 int b = getByte(in, from + i);
                 if (format == XML && (b == '&' || b == '<' || b == '>' || b == '"')) {
                     pourAll(b == '&' ? "&amp;" : b == '<' ? "&lt;" : b == '>' ? "&gt;" : "&quot;");

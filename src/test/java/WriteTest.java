@@ -17,6 +17,7 @@ public final class WriteTest {
         manyLists();
         tellings();
         deep();
+        fullWord();
         House.over();
     }
 
@@ -227,6 +228,22 @@ public final class WriteTest {
         h.main("main(b) ::= \"" + "<[b,b,b,b]>".repeat(300) + "\"");
         House.due("all looks", h.x.look(5), 1200);
         House.due("kept", h.x.looked(999, 0) + " " + h.x.looked(1000, 0), "0 -2");
+    }
+
+    /** What is left out of a WORD is written all the same, and soon: here 3000 times 3000 bytes. */
+    private static void fullWord() {
+        House h = new House();
+        int line = h.word("\nx".repeat(1500));
+        int[] hundred = new int[100];
+        java.util.Arrays.fill(hundred, line);
+        int many = h.list(hundred);
+        java.util.Arrays.fill(hundred, 0, 30, many);
+        h.attribute("l", h.list(java.util.Arrays.copyOf(hundred, 30)));
+        h.attribute("b", h.bean("bean"));
+        String s = "main(l, b) ::= \"<strlen({" + " ".repeat(3000) + "<l><b><l.x>})>\"";
+        House.due("a full word", h.all(s), "1000|4@0:" + s.indexOf(".x") + "|2|2");
+        House.due("looked at behind its end", h.looks(), "3.-1");
+        House.due("the next word is a new one", h.main("main(l) ::= \"<strlen(l)>,<strlen({ab})>,<(['c'])>\""), "1000,2,c");
     }
 
     private static void deep() {
