@@ -20,7 +20,9 @@ final class House {
         checked++;
         if (!String.valueOf(got).equals(String.valueOf(want))) {
             wrong++;
-            System.out.println(what + "\n  answered " + got + "\n  due is   " + want);
+            int n = what.length();
+            String told = n <= 300 ? what : what.substring(0, 60) + " [..] " + what.substring(n - 240);
+            System.out.println(told + "\n  answered " + got + "\n  due is   " + want);
         }
     }
 
@@ -149,6 +151,59 @@ final class House {
         file(0, source);
         String loaded = load(0);
         return loaded.indexOf('@') >= 0 ? "FAULT " + loaded : text("main");
+    }
+
+    /** A new object's file 0, in which the place of its FAULT is marked by a ~ that is taken away. */
+    static void fault(int number, String marked) {
+        int place = marked.indexOf('~');
+        House h = new House();
+        h.file(0, marked.substring(0, place) + marked.substring(place + 1));
+        due(marked, h.load(0), number + "@0:" + place);
+    }
+
+    /** A new object's file 0 without a FAULT. */
+    static void fine(String source) {
+        House h = new House();
+        h.file(0, source);
+        String got = h.load(0);
+        due(source, got.indexOf('@') < 0 ? "no fault" : got, "no fault");
+    }
+
+    /** The text of main of a new object. */
+    static void text(String source, String text) {
+        new House().is(source, text, "");
+    }
+
+    /** The text of main; in its file places are marked by ~1, ~2 .., which are taken away; errors:
+     * those due, each as number@mark. The text is over then, or ended by an ERROR 8. */
+    House is(String marked, String text, String errors) {
+        StringBuilder clean = new StringBuilder();
+        int[] places = new int[10];
+        for (int i = 0; i < marked.length(); i++) {
+            if (marked.charAt(i) == '~') {
+                i++;
+                places[marked.charAt(i) - '0'] = clean.length();
+            } else {
+                clean.append(marked.charAt(i));
+            }
+        }
+        StringBuilder want = new StringBuilder();
+        for (String e : errors.split(" ")) {
+            if (!e.isEmpty()) {
+                want.append(want.length() == 0 ? "" : " ").append(e, 0, e.indexOf('@')).append("@0:");
+                want.append(places[e.charAt(e.indexOf('@') + 1) - '0']);
+            }
+        }
+        due(marked, main(clean.toString()), text);
+        due("errors of " + marked, errors(), want);
+        due("state of " + marked, x.look(7), errors.contains("8@") ? 3 : 2);
+        return this;
+    }
+
+    /** How many INSTANCES the text made. */
+    House made(int n) {
+        due("instances", x.look(6), n);
+        return this;
     }
 
     /** As main(), with the ERRORS and how many INSTANCES there were. */
