@@ -6,7 +6,9 @@ public final class CheckBoundsTest {
         rings();
         emptyFiles();
         readOnce();
+        manyImports();
         firstFault();
+        manyNames();
         twice();
         names();
         counts();
@@ -126,6 +128,33 @@ public final class CheckBoundsTest {
         House.due("which is read in this order", h.load(0), "1@2:9");
     }
 
+    /** Eight files, each of which imports all behind it, and has 40 DEFINITIONS; one imports often. */
+    private static void manyImports() {
+        String[] all = new String[8];
+        for (int k = 0; k < 8; k++) {
+            StringBuilder s = new StringBuilder();
+            for (int i = k + 1; i < 8; i++) {
+                s.append("import ").append(i).append(' ');
+            }
+            for (int i = 0; i < 40; i++) {
+                s.append("t").append(k).append("_").append(i).append("() ::= \"").append(k).append("\" ");
+            }
+            all[k] = s.toString();
+        }
+        House h = house(all);
+        House.due("320 TEMPLATEs", h.load(0), "320");
+        House.due("of each file", h.text("t0_0") + h.text("t0_39") + h.text("t6_20") + h.text("t7_0") + h.text("t7_39"), "00677");
+        h.file(7, "t7() ::= \"<zz()>\"");
+        House.due("a FAULT of the last one", h.load(0), "6@7:11");
+        h.file(7, "@a.r() ::= \"\"");
+        House.due("a FAULT of the last one", h.load(0), "9@7:3");
+        h.file(7, "t7() ::= \"<super.t6_1()>\"");
+        House.due("a FAULT of the last one", h.load(0), "9@7:17");
+        load("2", "import 1 ".repeat(100) + "import 2", "import 2 ".repeat(20) + "import 3", "t() ::= \"\"", "u() ::= \"\"");
+        main("ab", "import 1 import 1 import 2 main() ::= \"<t()><u()>\"", "import 3 ".repeat(9) + "import 4 t() ::= \"a\"", "u() ::= \"x\"", "//",
+            "u() ::= \"b\"");
+    }
+
     /** "the first one of a file, as it is met from left to right"; then the CHECKS, file by file. */
     private static void firstFault() {
         bad(1, "a() ::= \"\"~) b() b()", ")");
@@ -147,6 +176,30 @@ public final class CheckBoundsTest {
         fault(9, t + "@t.~r() ::= \"<zz()>\" a ::= a");
         fault(10, t + "~a ::= a @t.r() ::= \"\"");
         fault(7, t + "a(x={<~t()>}) ::= \"<x:{y,z|}>\"");
+    }
+
+    /** NAMEs that a table of them could take for one another. */
+    private static void manyNames() {
+        String[] alike = {"AaAaAa", "AaAaBB", "AaBBAa", "AaBBBB", "BBAaAa", "BBAaBB", "BBBBAa", "BBBBBB", "AaAa", "BBBB", "Aa", "BB", "C_"};
+        StringBuilder s = new StringBuilder();
+        StringBuilder calls = new StringBuilder();
+        StringBuilder due = new StringBuilder();
+        for (int i = 0; i < alike.length; i++) {
+            s.append(alike[i]).append("() ::= \"").append((char) ('a' + i)).append("\" ");
+            calls.append('<').append(alike[i]).append("()>");
+            due.append((char) ('a' + i));
+        }
+        main(due.toString(), s + "main() ::= \"" + calls + "\"");
+        main("-|+", "main(Aa=\"-\",BB=\"+\") ::= \"<Aa>|<BB>\"");
+        main("+", "d ::= [\"Aa\":\"-\",\"BB\":\"+\"] main() ::= \"<d.BB>\"");
+        fault(6, s + "main() ::= \"<AaAaAa()><~AaBBCc()>\"");
+        s.setLength(0);
+        due.setLength(0);
+        for (int i = 0; i < 250; i++) {
+            s.append("{n").append(i).append("|<n").append(i).append(">},");
+            due.append(i < 100 ? "v" : "");
+        }
+        main(due.toString(), "main() ::= \"<[" + "'v',".repeat(100) + "]:" + s.substring(0, s.length() - 1) + ">\"");
     }
 
     private static void twice() {

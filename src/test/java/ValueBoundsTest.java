@@ -414,6 +414,8 @@ public final class ValueBoundsTest {
         House.due("a BEAN too long", h.bean("1234") + " " + h.x.look(1), "-1 4");
         House.due("a WORD", h.word("123") + " " + h.x.look(8), "4 16000");
         House.due("one without bytes", h.x.word() + " " + h.bean("") + " " + h.bean("a"), "5 6 -1");
+        House.due("what has no bytes", h.x.truth(true) + " " + h.x.number(1) + " " + h.x.list() + " " + h.x.map(), "7 8 9 10");
+        House.due("16000 bytes", h.x.look(8), 16000);
         h = filled(15996);
         House.due("a BEAN", h.bean("123") + " " + h.x.look(8), "4 15999");
         int m = h.x.map();
