@@ -352,6 +352,7 @@ public final class CheckBoundsTest {
         fault(9, "a() ::= \"<@r()>\" @a.r() ::= \"<@super.~r()>\"");
         load("1", "import 1 @a.r() ::= \"<@super.r()>\"", "a() ::= \"<@r()>\"");
         load("1", "import 1 @a.r() ::= \"<@super.r()>\"", "import 2", "a() ::= \"<@r()>\"");
+        fault(9, "@a.r() ::= \"<@super.~r()>\" a() ::= \"<@r()>\"");
         load("1", "import 1 a() ::= \"<@r()>\" @a.r() ::= \"<@super.r()>\"", "a() ::= \"<@r()>\"");
         bad(9, "import 1 a() ::= \"<@r()>\" @a.r() ::= \"<@super.~r()>\"", "a() ::= \"\"");
         bad(9, "import 1 a() ::= \"<@r()>\" @a.r() ::= \"<{<@super.~r()>}>\"", "b() ::= \"<@r()>\"");

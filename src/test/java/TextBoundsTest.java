@@ -108,6 +108,8 @@ public final class TextBoundsTest {
         is("<('none')(...)><('two')(...)>", "0/Y", "");
         is("<({o<'n'>e})(w)><(['n','one'])()><~1([])()>", "1a0", "2@1");
         is("<~1(true)(w)>", "", "2@1");
+        is("<['y',('one')('x'),'z']><two('y',('one')('x'))><two(('one')('x'),'y')><[~1('zz')(),'y']>",
+            "y1xzy/1x1x/yy", "2@1");
     }
 
     /** "all behind the ARGS, ahead of the INSTANCE: first that of a value that is not given ..". */
@@ -132,6 +134,7 @@ public final class TextBoundsTest {
     private static void dictionaryMembers() {
         is("<d.k>|<d.e>|<d.y>|<d.zz; null='-'>|<d.keys>|<d.values>", "v||y|-|key|vy", "");
         is("<dd.k>|<dd.zz>|<dd.keys>|<dd.values>|<dd.('')>|<length(dd)><dd>", "v|zz|keys|values||1v", "");
+        is("<[dd.p,dd.q,dd.(w)]; separator='-'><dd.p; format=dd.cap><[dd.p]:{x|<dd.q><x>}>", "p-q-aPqp", "");
         is("<only.a>|<only.keys>|<only>|<length(only)>|<d.('keys')>|<d.(w); null='-'>", "|||0|key|-", "");
         is("<d~1.(n)><dd~2.(n)><d.({k})><dd.([w,w])>", "vaa", "4@1 4@2");
     }
@@ -187,6 +190,8 @@ public final class TextBoundsTest {
         h.is("main(a,b,c,n) ::= \"<strlen(a)> <strlen(b)> <strlen('')> <~1strlen(n); null='-'> <strlen([])> <strlen([b,b])>\"",
             "14 3 0 - 0 6", "6@1");
         h.is("main(n) ::= \"<~1trim(n:{})>\"", "", "6@1");
+        h.is("main(b) ::= \"<(' ')>[<trim(' ')>]<strlen(trim(b))><trim(b); null='-'><if(trim(b))>y<endif><(b)><trim(b)>.\"",
+            " []0y \n\t.", "");
     }
 
     // ---- APPLIED
@@ -199,6 +204,9 @@ public final class TextBoundsTest {
         is("<two:one():one()><two:{x|<x><x>}:{x|<x>.}><n:one():one(); null='-'><two:{n}:{x|<x><i>}>", "11a11baa.bb.-n1n2", "");
         is("<w:two()>,<w:two(w)>,<w:two('q')>,<w:two(y='q')>,<w:two(x='q')>,<w:two(x='q',y=n)>", "a/Y,a/a,a/q,a/q,q/Y,q/", "");
         is("<two:two(~1q)>", "a/b/", "1@1 1@1");
+        is("<two:two(one:one())>,<two:two([three:{x|<i>}])>,<two:two(({<two:{<i>}>}))>,<two:two(two:two(two:{<i>}))>",
+            "a/1ab/1a,a/13b/13,a/12b/12,a/a/12b/12b/a/12b/12", "");
+        is("<two:two([two:one(),w:two(n)]):{x|(<x>)}>", "(a/1a1ba/)(b/1a1ba/)", "");
         is("<n:two(q)><none:two(q)><nots:two(q)>", "", "");
     }
 

@@ -10,6 +10,7 @@ public final class ValueBoundsTest {
             fiveHundred(maker);
             whileMade(maker);
         }
+        theLastNumber();
         numbers();
         bytesOfWords();
         listSizes();
@@ -77,6 +78,27 @@ public final class ValueBoundsTest {
         House.due("another one", made(h, maker), -1);
         h.x.stop();
         House.due("stopped", made(h, maker), 1);
+    }
+
+    /** The 500th value, as it is written by the 511th call, and read by the 512th. */
+    private static void theLastNumber() {
+        TemplateHouse x = new TemplateHouse();
+        for (int i = 0; i < 499; i++) {
+            x.truth(true);
+        }
+        x.number(7);
+        x.feed(0x61000000, 0, 0, 0, 0);
+        x.end(1);
+        x.attribute(499);
+        x.feed(0x6d286129, 0x3a3a3d22, 0x3c613e22, 0, 0);
+        x.end(12);
+        x.file(0);
+        x.load(0);
+        x.feed(0x6d000000, 0, 0, 0, 0);
+        x.end(1);
+        x.begin();
+        x.run(1);
+        House.due("the 500th value", x.byteOf(0), (int) '7');
     }
 
     private static void numbers() {

@@ -509,6 +509,11 @@ public final class WordBoundsTest {
         fault(1, "a(b={<~@super>}) ::= \"\"");
         fault(1, "d ::= [\"k\":{<~@r()>}]");
         fault(1, "d ::= [default:{<~@r>}]");
+        fault(1, "a() ::= \"<@s()>\" d ::= [default:{<~@r()>}]");
+        fault(1, "a() ::= \"<@s()>\" b(c={<~@r()>}) ::= \"\"");
+        fault(1, "a() ::= \"<@s()>\" @a.s() ::= \"\" d ::= [default:{<~@super.s()>}]");
+        fault(1, "a() ::= \"<@s()>\" @a.s() ::= \"\" b(c={<~@super.s()>}) ::= \"\"");
+        fault(1, "a(b={<~@r()>}) ::= \"<@r()>\"");
         fault(1, "@a.r() ::= \"<~@r()>\"");
         fault(1, "@a.r() ::= \"<~@r>\"");
         fault(1, "@a.r() ::= \"<{<~@s()>}>\"");

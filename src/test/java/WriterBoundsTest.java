@@ -73,6 +73,13 @@ public final class WriterBoundsTest {
         is(" <@r> <@end> \n1", "   \n1");
         is(" <if(o)><!c!>\n<endif>1", " \n1");
         is("\\\\<!c!>\n.", "\\\n.");
+        is("<\\n> <if(o)> \n1<endif>", "\n  \n1");
+        is("<\\n><!c!>\n.", "\n\n.");
+        is("<\\\\>\n <!c!> \n.", " \n.");
+        is("<\\\\>\n<if(o)>\n1<endif>", "\n1");
+        is("<@r()> <if(o)> \n1<endif>", "  \n1");
+        is("<@r()><!c!>\n.", ".");
+        is("<n><!c!> \n.", " \n.");
     }
 
     private static void linesOfSubs() {
@@ -103,6 +110,11 @@ public final class WriterBoundsTest {
         is("<if(o)>  <x><endif>", "  x\ny");
         is("<if(o)>\n  <x><endif>", "  x\n  y");
         is("<\\\\>\n  <x>", "x\ny");
+        is("<\\n>  <x>", "\n  x\ny");
+        is("<\\t>  <x>", "\t  x\ny");
+        is("<@r()>  <x>", "  x\ny");
+        is("<!c!>  <x>", "  x\ny");
+        is("<@r>  <x><@end>", "  x\ny");
         is(".<{  <x>}>", ".x\n  y");
         is(".<{<if(o)>  <x><endif>}>", ".  x\ny");
         is("1\n\t<@r>2<@end>\n\t<@s()>3", "1\n\t2\n3");
@@ -267,7 +279,7 @@ public final class WriterBoundsTest {
 
     /** "another one: ERROR 9, once, as the option is worked out, and as if it were not told". */
     private static void noFormats() {
-        for (String f : new String[] {"", " ", "Upper", "uppe", "upperr", " upper", "123", "000", "1a", "a1", "-1", "+1", "1.", "1 ", "xm", "urls", "cap "}) {
+        for (String f : new String[] {"", " ", "Upper", "uppe", "upperr", " upper", "123", "000", "1a", "a1", "-1", "+1", "1.", "1 ", ":", "1:", ":1", "/", "1/", "/1", "xm", "urls", "cap "}) {
             House h = new House();
             h.attribute("f", h.word(f)).attribute("w", h.word("a<"));
             h.is("main(f,w) ::= \"<[w,w]; separator='.', format=~1f>\"", "a<.a<", "9@1");
@@ -356,6 +368,8 @@ public final class WriterBoundsTest {
         h.is("main(n) ::= \"abc<[{},{}]; wrap='-'>\"", "abc--", "");
         h.is("main(n) ::= \"ab<({cd<'e'; wrap>}); wrap>\"", "ab\ncde", "");
         h.is("main(n) ::= \"<['ab','cd']:{x|<x>}; wrap>\"", "ab\ncd", "");
+        h.is("main(n) ::= \"<{ab<@r>c<@end><@s()>d<o>}; wrap='-'><o; wrap='-'>\"", "abcdo-o", "");
+        h.is("main(n) ::= \"<{<(l)><n><l><o>}; separator='.', null='-', format='upper'>\"", "1313o", "");
     }
 
     /** "each NEWLINE among them followed by the INDENTs and blanks at once (it is not AT A LINE'S BEGINNING then)". */
