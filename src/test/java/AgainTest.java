@@ -35,6 +35,11 @@ public final class AgainTest {
             h.file(0, good());
             House.due("behind the FAULT of " + s, h.load(0), "3");
             House.due("its text", h.text("main") + h.errors().charAt(0) + h.x.look(4), TEXT + "41");
+            h.file(0, s);
+            h.load(0);
+            h.file(0, "main() ::= \"<true>}\"");
+            House.due("behind the FAULT of " + s, h.load(0), "1");
+            House.due("its text", h.text("main"), "true}");
         }
     }
 
@@ -144,6 +149,15 @@ public final class AgainTest {
             h.x.stop();
             House.due("the next one is a new one", h.text("u") + h.errors() + h.looks() + h.x.look(6), "u1");
             House.due("30 and their ERROR 7", h.text("deep") + h.x.look(4), "1");
+        }
+        h.file(0, "main(l) ::= <<\n <{a\n  <({ b<\\n>c<l:{x|<l:{y|d}; separator='.', format='upper', wrap='-'>}; separator='-', null='+', anchor>})>}; anchor>\n>> "
+            + "t() ::= <<\n<{<i>}><i><({a\nb})>\nc\n>>");
+        h.x.width(0);
+        House.due("two TEMPLATEs", h.load(0), "2");
+        for (int i = 0; i < 3; i++) {
+            House.due("it ENDS in a WORD", h.text("main") + h.x.look(4) + h.x.look(6), " a\n12000");
+            House.due("the next one is a new one", h.text("t") + " " + h.errors().substring(0, 2) + h.x.look(4), "a\nb\nc 1@2");
+            h.text("main");
         }
     }
 

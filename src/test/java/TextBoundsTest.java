@@ -129,6 +129,8 @@ public final class TextBoundsTest {
         is("<e.keys; null='-'>|<e.values; null='-'>|<e.k; null='-'>|<length(e.keys)>", "||-|0", "");
         is("<m.('k')><m.(w); null='-'><m~1.(n)><m.(['k'])><m.({k})><m~2.(~3q)>", "a-aa", "4@1 1@3 4@2");
         is("<m.('keys')><m.('values'); null='-'>", "ba-b", "");
+        is("<e.xeys; null='-'><e.kexs; null='-'><e.key; null='-'><e.Values; null='-'><e.value; null='-'><m.valuex; null='-'>", "------", "");
+        is("<d.xeys; null='-'><d.valuex; null='-'><d.Keys; null='-'><d.keys; null='-'>", "---key", "");
     }
 
     private static void dictionaryMembers() {

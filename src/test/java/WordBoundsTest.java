@@ -171,6 +171,20 @@ public final class WordBoundsTest {
             }
         }
         fault(9, "a() ::= \"\" @a.~if() ::= \"\"");
+        // words that differ in a byte
+        fault(1, "xmport ~1");
+        fault(1, "impors ~1");
+        fault(1, "xelimiters ~\"$\",\"$\"");
+        fault(1, "delimiter ~\"$\",\"$\"");
+        fault(1, "d ::= [~xefault:true]");
+        fault(1, "d ::= [~defaulx:true]");
+        fault(1, "d ::= [default:~xrue]");
+        fault(1, "d ::= [default:~trux]");
+        fault(1, "d ::= [default:~xalse]");
+        fault(1, "d ::= [default:~xey]");
+        fault(1, "d ::= [default:~kex]");
+        fault(1, "a(b=~xrue) ::= \"\"");
+        fine("xmport() ::= \"\" xelimiters(xefault,kex) ::= \"\" Import(True,False,KEY) ::= \"\"");
     }
 
     private static void wordsInside() {
@@ -567,6 +581,15 @@ public final class WordBoundsTest {
         fault(1, in("<@r><@s><@end>~"));
         fault(1, in("<{<@r>~}><@end>"));
         fine(in("<@endx()><@ends><@end><@_end()>"));
+        fault(1, in("<@r><@xnd><@end>~"));
+        fault(1, in("<@r><@enx>~"));
+        fault(1, in("<@xuper~.r()>"));
+        fault(1, "@a.r() ::= \"<~@xuper.r()>\"");
+        fault(1, "@a.r() ::= \"<~@supex.r()>\"");
+        fine(in("<xf><ix><xrue><trux><xirst><firsx><xuper><First><If><TRUE>"));
+        fault(1, in("<a; ~xeparator=a>"));
+        fault(1, in("<a; ~wrax>"));
+        fault(1, in("<xf(a)><~endif>"));
         fault(9, "a() ::= \"<@r()>\" @a.~end() ::= \"<@super.end()>\"");
     }
 
