@@ -26,7 +26,7 @@ public final class AgainTest {
             "d ::= [", "d ::= [\"k\":{x", "d ::= [\"k\":{<@r()>}]", "@a.r() ::= \"", "@a.r() ::= \"<@super.r()><@s()>\"", "delimiters \"$\", \"#\" a() ::= \"$\"",
             "delimiters \"$\", \"x\"", "import 0", "import 1 a() ::= \"<@r()>\" b( ::=", "a() ::= \"<zz()>\"", "a ::= a", "a() ::= \"<@r()><@r()>\"",
             "main(x,y,z,u) ::= \"\" t ::= zz", "a() ::= \"<a(b=c,b=c)>\"", "a() ::= \"<x:{},('t')(<\"", "a() ::= \"\n", "a() ::= \"  <{ <{ <!\"",
-            "a() ::= \"" + "<if(a)>".repeat(25) + "\"", "a() ::= <<\n" + "  <x>\n".repeat(400) + "<>>>", "x".repeat(4000)};
+            "a() ::= \"" + "<if(a)>".repeat(25) + "\"", "a() ::= <<\n" + "  <x>\n".repeat(100) + "<>>>", "x".repeat(1000)};
         for (String s : bad) {
             House h = new House();
             h.file(1, "u() ::= \"\"");
@@ -35,6 +35,7 @@ public final class AgainTest {
             h.file(0, good());
             House.due("behind the FAULT of " + s, h.load(0), "3");
             House.due("its text", h.text("main") + h.errors().charAt(0) + h.x.look(4), TEXT + "41");
+            h = new House();
             h.file(0, s);
             h.load(0);
             h.file(0, "main() ::= \"<true>}\"");

@@ -137,19 +137,24 @@ public final class CheckBoundsTest {
                 s.append("import ").append(i).append(' ');
             }
             for (int i = 0; i < 40; i++) {
-                s.append("t").append(k).append("_").append(i).append("() ::= \"").append(k).append("\" ");
+                s.append((char) ('a' + k)).append(i).append("()::=\"").append(i % 13 == 0 ? "" + k : "").append("\"");
             }
             all[k] = s.toString();
         }
         House h = house(all);
         House.due("320 TEMPLATEs", h.load(0), "320");
-        House.due("of each file", h.text("t0_0") + h.text("t0_39") + h.text("t6_20") + h.text("t7_0") + h.text("t7_39"), "00677");
-        h.file(7, "t7() ::= \"<zz()>\"");
-        House.due("a FAULT of the last one", h.load(0), "6@7:11");
-        h.file(7, "@a.r() ::= \"\"");
-        House.due("a FAULT of the last one", h.load(0), "9@7:3");
-        h.file(7, "t7() ::= \"<super.t6_1()>\"");
-        House.due("a FAULT of the last one", h.load(0), "9@7:17");
+        House.due("of each file", h.text("a0") + h.text("a39") + h.text("g26") + h.text("h0") + h.text("h39"), "00677");
+        String[] few = {"import 1 import 7", "import 2", "import 3", "import 4", "import 5", "import 6", "import 7", ""};
+        few[7] = "h() ::= \"<~zz()>\"";
+        bad(6, few);
+        few[7] = "@a.~r() ::= \"\"";
+        bad(9, few);
+        few[7] = "h() ::= \"<super.~zz()>\"";
+        bad(9, few);
+        few[7] = "h(x) ::= \"<x:~{y,z|}>\"";
+        bad(7, few);
+        few[7] = "h() ::= \"<~)>\"";
+        bad(1, few);
         load("2", "import 1 ".repeat(100) + "import 2", "import 2 ".repeat(20) + "import 3", "t() ::= \"\"", "u() ::= \"\"");
         main("ab", "import 1 import 1 import 2 main() ::= \"<t()><u()>\"", "import 3 ".repeat(9) + "import 4 t() ::= \"a\"", "u() ::= \"x\"", "//",
             "u() ::= \"b\"");

@@ -11,7 +11,6 @@ public final class FaceTest {
         attributes();
         widths();
         whileMade();
-        rooms();
         House.over();
     }
 
@@ -90,7 +89,8 @@ public final class FaceTest {
             "true,false,-9223372036854775808,9223372036854775807,0,w\u00ff\0,,be");
         House.due("look(1)", h.x.look(1), 9);
         House.due("look(8)", h.x.look(8), 5);
-        for (int i = 9; i < 500; i++) {
+        h = new House();
+        for (int i = 0; i < 500; i++) {
             h.x.truth(true);
         }
         House.due("500 values", h.x.look(1), 500);
@@ -236,30 +236,5 @@ public final class FaceTest {
         House.due("run", h.run(1), "ISE");
         House.due("then", h.x.add(l, -1), true);
         House.due("look(0)", h.x.look(0), 2);
-    }
-
-    private static void rooms() {
-        House h = new House();
-        String s = "w".repeat(4000);
-        for (int i = 0; i < 4; i++) {
-            House.due("word " + i, h.word(s), i);
-        }
-        House.due("16000 bytes", h.x.look(8), 16000);
-        House.due("one more", h.word("w"), -1);
-        House.due("an empty one", h.x.word(), 4);
-        int m = h.x.map();
-        House.due("a key", h.entry(m, "k", 0), false);
-        int b = h.bean("");
-        House.due("a property", h.property(b, "k", 0, 0), false);
-        for (int l = 0; l < 41; l++) {
-            h.x.list();
-        }
-        int n = 0;
-        for (int l = 0; l < 41; l++) {
-            for (int i = 0; i < 100; i++) {
-                n += h.x.add(7 + l, -1) ? 1 : 0;
-            }
-        }
-        House.due("values in all lists", n, 4000);
     }
 }

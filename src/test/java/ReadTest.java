@@ -4,19 +4,11 @@ public final class ReadTest {
 
     /** The FAULT of file 0, in which the place is marked by a ~ that is taken away. */
     private static void fault(int number, String marked) {
-        int place = marked.indexOf('~');
-        String s = marked.substring(0, place) + marked.substring(place + 1);
-        h.file(0, s);
-        House.due(marked, h.load(0), number + "@0:" + place);
+        House.fault(number, marked);
     }
 
     private static void fine(String s) {
-        h.file(0, s);
-        String got = h.load(0);
-        House.due(s, got.indexOf('@') < 0, true);
-        if (got.indexOf('@') >= 0) {
-            System.out.println("  " + got);
-        }
+        House.fine(s);
     }
 
     private static String in(String tag) {
@@ -89,8 +81,10 @@ public final class ReadTest {
         fault(1, "import~");
         fault(1, "a() ::= \"\" ~import 1");
         h.file(1, "b() ::= \"\"");
-        fine("import 1import/**/1 a() ::= \"\"");
-        fault(1, "import 1~2");
+        h.file(0, "import 1import/**/1 a() ::= \"\"");
+        House.due("twice", h.load(0), "2");
+        h.file(0, "import 12");
+        House.due("one digit", h.load(0), "1@0:8");
     }
 
     private static void definitions() {

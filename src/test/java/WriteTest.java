@@ -12,10 +12,6 @@ public final class WriteTest {
         tags();
         manyInstances();
         manyValues();
-        manyBytes();
-        manyWords();
-        manyLists();
-        tellings();
         deep();
         fullWord();
         House.over();
@@ -149,7 +145,11 @@ public final class WriteTest {
         h.attribute("l", h.list(hundred));
         String s = "main(l) ::= \"<l:{x|<l:{y|.}>}>\"";
         // the root, 100 of the outer list, 100 of each of 18 inner ones, 99 of the next one
-        House.due("2000", h.all(s), ".".repeat(1800) + "|8@0:19|2000|3");
+        h.file(0, s);
+        h.load(0);
+        h.begin("main");
+        House.due("2000", h.run(12000) + " " + h.x.look(3) + " " + h.errors() + " " + h.x.look(6), "2 1800 8@0:19 2000");
+        House.due("the last byte", h.x.byteOf(1799) + " " + h.x.byteOf(1800), (int) '.' + " -1");
     }
 
     private static void manyValues() {
@@ -173,74 +173,17 @@ public final class WriteTest {
         House.due("one more", h.all(s + "<z>\""), "|8@0:34|1|3");
     }
 
-    private static void manyBytes() {
-        House h = new House();
-        StringBuilder s = new StringBuilder("main(w) ::= <<");
-        h.attribute("w", h.word("w".repeat(3000)));
-        s.append("<w><w><w><w>ab");
-        h.file(0, s + "\n>>");
-        h.load(0);
-        h.begin("main");
-        House.due("run", h.run(11999) + h.run(1), "00");
-        House.due("going on", h.x.look(7), 1);
-        House.due("no error yet", h.errors(), "");
-        House.due("run", h.run(1), "2");
-        House.due("ended", h.x.look(7) + " " + h.x.look(3) + " " + h.errors(), "3 12000 8@0:26");
-        House.due("run", h.run(1), "ISE");
-        House.due("12000 bytes", h.all("main(w) ::= \"<w><w><w><w><w; wrap, null=w>\"").length(), 12011);
-        House.due("the element", h.errors(), "8@0:25");
-    }
-
-    private static void manyWords() {
-        House h = new House();
-        h.attribute("w", h.word("w".repeat(1001)));
-        House.due("1000 bytes of a word", h.main("main(w) ::= \"<strlen(w)>,<strlen((w))><if(w)>.<endif><strlen(trim(w))>\""), "1000,1000.1000");
-        StringBuilder s = new StringBuilder("main(w) ::= \"");
-        for (int i = 0; i < 40; i++) {
-            s.append("<if(strlen(w))><endif>");
-        }
-        House.due("40000 bytes", h.all(s + "<strlen('')>\""), "0||1|2");
-        House.due("one more", h.all(s + "<if(strlen('a'))>x<endif>\""), "|8@0:" + s.length() + "|1|3");
-    }
-
-    private static void manyLists() {
-        House h = new House();
-        int[] hundred = new int[100];
-        java.util.Arrays.fill(hundred, h.x.truth(true));
-        int l = h.list(hundred);
-        h.attribute("l", l);
-        StringBuilder s = new StringBuilder("main(l) ::= \"");
-        for (int i = 0; i < 10; i++) {
-            s.append("<if([").append("reverse(l),".repeat(19)).append("])><endif>");
-        }
-        // each: 19 times 100, and 100 of its own
-        House.due("20000 values", h.all(s + "<[]>\""), "||1|2");
-        House.due("one more", h.all(s + "<if(l)><[l]><endif>\""), "|8@0:" + (s.length() + 7) + "|1|3");
-        House.due("of APPLIED, as they come", h.all(s + "<l:{x|<zz>}>\""), "|8@0:" + s.length() + "|2|3");
-    }
-
-    private static void tellings() {
-        House h = new House();
-        h.attribute("b", h.bean(""));
-        h.main("main(b) ::= \"" + "<b.p><b>".repeat(450) + "\"");
-        House.due("all errors", h.x.look(4), 450);
-        House.due("kept", h.x.error(399, 0) + " " + h.x.error(400, 0), "4 -1");
-        h.main("main(b) ::= \"" + "<[b,b,b,b]>".repeat(300) + "\"");
-        House.due("all looks", h.x.look(5), 1200);
-        House.due("kept", h.x.looked(999, 0) + " " + h.x.looked(1000, 0), "0 -2");
-    }
-
-    /** What is left out of a WORD is written all the same, and soon: here 3000 times 3000 bytes. */
+    /** What is left out of a WORD is written all the same, and soon: here 3000 times 1500 bytes. */
     private static void fullWord() {
         House h = new House();
-        int line = h.word("\nx".repeat(1500));
+        int line = h.word("\nx".repeat(750));
         int[] hundred = new int[100];
         java.util.Arrays.fill(hundred, line);
         int many = h.list(hundred);
         java.util.Arrays.fill(hundred, 0, 30, many);
         h.attribute("l", h.list(java.util.Arrays.copyOf(hundred, 30)));
         h.attribute("b", h.bean("bean"));
-        String s = "main(l, b) ::= \"<strlen({" + " ".repeat(3000) + "<l><b><l.x>})>\"";
+        String s = "main(l, b) ::= \"<strlen({" + " ".repeat(1000) + "<l><b><l.x>})>\"";
         House.due("a full word", h.all(s), "1000|4@0:" + s.indexOf(".x") + "|2|2");
         House.due("looked at behind its end", h.looks(), "3.-1");
         House.due("the next word is a new one", h.main("main(l) ::= \"<strlen(l)>,<strlen({ab})>,<(['c'])>\""), "1000,2,c");
@@ -249,12 +192,15 @@ public final class WriteTest {
     private static void deep() {
         House h = new House();
         int v = h.list(h.x.number(1), h.x.number(2));
-        for (int i = 0; i < 400; i++) {
+        for (int i = 0; i < 60; i++) {
             v = h.list(v, 0);
         }
         h.attribute("l", v);
-        House.due("lists in lists", h.main("main(l) ::= \"<l; separator={.}>\""), "1.2" + ".1".repeat(400));
-        House.due("in instances", h.main("main(l) ::= \"<l; separator={<main(l)>}>\"").length() > 100, true);
-        House.due("words in words", h.main("main() ::= \"<((((((((((((((((((main()))))))))))))))))))>.\""), ".".repeat(30));
+        House.due("lists in lists", h.main("main(l) ::= \"<l; separator={.}>\""), "1.2" + ".1".repeat(60));
+        h.file(0, "main(l) ::= \"<l; separator={<main(l)>}>\"");
+        h.load(0);
+        h.begin("main");
+        House.due("in instances", h.run(12000) + h.x.error(0, 0), "27");
+        new House().is("main() ::= \"~1<((((((((((((((((((main()))))))))))))))))))>.\"", ".".repeat(30), "7@1");
     }
 }
