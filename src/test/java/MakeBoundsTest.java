@@ -185,6 +185,11 @@ public final class MakeBoundsTest {
         lists(4, "~1<d,n:{x,y|}>");
         lists(1, "<if([]||strip(n)||rest(true)||trunc(n))>x<elseif(first(l)&&last(a)&&length(l)&&l&&d&&true)>~1<[n]><endif>");
         lists(1, "<l><m><{}:{}><n:{}>~1<[n]>");
+        // the place of an elseif is that of its if
+        lists(1, "~1<if(n)>x<elseif([n])><endif>");
+        lists(1, "<if(n)>x<elseif(!n)>~1<[n]><endif>");
+        lists(1, "~1<if(n)>x<elseif(n)>y<elseif(n||![n])>z<endif>");
+        lists(1, "<@r>~1<[n]><@end>");
     }
 
     /** "those of APPLIED .. counted as they come, behind their INSTANCE; of other LISTs all at once". */
@@ -311,7 +316,8 @@ public final class MakeBoundsTest {
         new House().is(down(29, "~1<{y}; null={z}>~2<[[],'',['']]:{}>~3<['a','b']; separator={s}>"), "ab", "7@1 7@2 7@2 7@3");
         new House().is(down(29, "~1<[{},'a',{}]; separator=','>"), ",a,", "7@1 7@1");
         new House().is(down(29, "<if({y})>a<endif><length({y})>~1<[{y}]; null='n'>"), "a1", "7@1");
-        new House().is(down(29, "~1<if(true)>a~2<{y}><endif>"), "a", "7@2");
+        new House().is(down(29, "<if(true)>a~1<{y}><endif>"), "a", "7@1");
+        new House().is(down(29, "~1<if(strlen({y}))>a<endif>b~2<if(false)><elseif(strlen({y}))>c<else>d<endif>"), "abc", "7@1 7@2");
     }
 
     private static void thirtyInWords() {

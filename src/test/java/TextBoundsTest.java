@@ -27,6 +27,7 @@ public final class TextBoundsTest {
         lazyConditions();
         branches();
         regions();
+        errorFiles();
         House.over();
     }
 
@@ -281,6 +282,29 @@ public final class TextBoundsTest {
         is("<if(n)>1<elseif(~1q)>2<elseif(w)>3<else>4<endif>", "3", "1@1");
         is("<if(n)>1<elseif(n)>2<elseif(n)>3<else>4<endif>", "4", "");
         is("<if(n)>1<elseif(n)>2<endif>.<if(n)><endif><if(w)><endif>", ".", "");
+    }
+
+    /** "number, file, and place": those of the TEXT where what is wrong stands. */
+    private static void errorFiles() {
+        House h = new House();
+        int bean = h.bean("B");
+        h.property(bean, "x", 0, -2);
+        h.attribute("b", bean);
+        String five = "t(n,b) ::= <%<zz>|<(n)()>|<('v')(n)>|<b.x>|<b.y>|<trim(n)>|<n; format='no'>%> v() ::= \"\" "
+            + "u(n,s={<yy>}) ::= \"<s>\" d ::= [\"k\":{<xx>}] r() ::= \"<@r()><@s><ww><@end>\"";
+        String six = "import 5 @r.r() ::= \"<vv><@super.r()>\" main(n,b) ::= <%<t(n,b)><u(n)><u(n,{<uu>})><d.k><r()><tt>%>";
+        h.file(5, five);
+        h.file(6, six);
+        House.due("load", h.load(6), "5");
+        House.due("text", h.text("main"), "||||||");
+        String[] due = {"1@5 zz", "2@5 (n)()", "3@5 ('v')", "5@5 .x", "4@5 .y", "6@5 trim", "9@5 'no'", "1@5 yy", "1@6 uu", "1@5 xx",
+            "1@6 vv", "1@5 ww", "1@6 tt"};
+        StringBuilder want = new StringBuilder();
+        for (String s : due) {
+            String file = s.charAt(2) == '5' ? five : six;
+            want.append(want.length() == 0 ? "" : " ").append(s, 0, 3).append(':').append(file.indexOf(s.substring(4)));
+        }
+        House.due("errors", h.errors(), want);
     }
 
     private static void regions() {
