@@ -10,7 +10,7 @@ public final class ValueBoundsTest {
             fiveHundred(maker);
             whileMade(maker);
         }
-        theLastNumber();
+        theLastValue();
         numbers();
         bytesOfWords();
         listSizes();
@@ -80,25 +80,32 @@ public final class ValueBoundsTest {
         House.due("stopped", made(h, maker), 1);
     }
 
-    /** The 500th value, as it is written by the 511th call, and read by the 512th. */
-    private static void theLastNumber() {
-        TemplateHouse x = new TemplateHouse();
-        for (int i = 0; i < 499; i++) {
-            x.truth(true);
+    /** The 500th value, as it is written: the 512th call goes on for a byte of it. */
+    private static void theLastValue() {
+        for (int maker : new int[] {1, 2, 3, 5}) {
+            TemplateHouse x = new TemplateHouse();
+            for (int i = 0; i < 499; i++) {
+                x.truth(true);
+            }
+            if (maker == 2 || maker == 5) {
+                x.end(1);
+            }
+            int v = maker == 1 ? x.number(7) : maker == 2 ? x.word() : maker == 3 ? x.list() : x.bean();
+            if (maker == 3) {
+                House.due("the 500th value has a value", x.add(v, 498), true);
+            }
+            x.feed(0x61000000, 0, 0, 0, 0);
+            x.end(1);
+            x.attribute(v);
+            x.feed(0x6d286129, 0x3a3a3d22, 0x3c613e22, 0, 0);
+            x.end(12);
+            x.file(0);
+            x.load(0);
+            x.feed(0x6d000000, 0, 0, 0, 0);
+            x.end(1);
+            x.begin();
+            House.due("the 500th value of maker " + maker, x.run(1), 0);
         }
-        x.number(7);
-        x.feed(0x61000000, 0, 0, 0, 0);
-        x.end(1);
-        x.attribute(499);
-        x.feed(0x6d286129, 0x3a3a3d22, 0x3c613e22, 0, 0);
-        x.end(12);
-        x.file(0);
-        x.load(0);
-        x.feed(0x6d000000, 0, 0, 0, 0);
-        x.end(1);
-        x.begin();
-        x.run(1);
-        House.due("the 500th value", x.byteOf(0), (int) '7');
     }
 
     private static void numbers() {
