@@ -303,6 +303,16 @@ public final class WordBoundsTest {
         fault(1, "a() ::= <<x>>~>");
         fault(1, "a() ::= <%x%>~>");
         fault(1, "a() ::= \"x\"~\"\"");
+        // without its end there is nothing that stands between: no FAULT is in it
+        fault(1, "a() ::= <<<b c> <9> ~");
+        fault(1, "a() ::= <<<\\x> <aaaaaaaaaaaaaaaaa>%>~");
+        fault(1, "a() ::= <<<if(true)><@end>\n>\n~");
+        fault(1, "a() ::= <%<b c>>>~");
+        fault(1, "a() ::= <%<@r()><@r()>>~");
+        fault(1, "a() ::= \"<b c>~");
+        fault(1, "a() ::= \"<b c>~\n\"");
+        fault(1, "@a.b() ::= <<<@c()>~");
+        fault(1, "a() ::= <<<b ~c>>>");
         fault(1, "a() ::= <<<if(true)>\n~>>");
         fault(1, "a() ::= <<\n<if(true)>\n\n~>>");
         fault(1, "a() ::= <%<if(true)>\n ~%>");

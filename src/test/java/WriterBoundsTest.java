@@ -23,6 +23,7 @@ public final class WriterBoundsTest {
         wrapsAndMargins();
         words();
         lookedAt();
+        lookedAtAheadOfWrap();
         House.over();
     }
 
@@ -390,6 +391,21 @@ public final class WriterBoundsTest {
             "  abcd\n       x\n       yabox\n           y", "");
         h.is("main(n) ::= <<\n  <{.<({<x>})>}>\n>>", "  .x\n  y", "");
         h.is("main(n) ::= <<\n  <if([({a\n})])>.<endif>\n  <strlen({\n <x>\n})>\n>>", "  .\n  7", "");
+    }
+
+    /** Its bytes are LOOKED AT; "if wrap is told, the line may be WRAPPED ahead of them". */
+    private static void lookedAtAheadOfWrap() {
+        House h = house();
+        h.x.width(2);
+        h.file(0, "main() ::= \"ab<b; wrap='-='><b; wrap>\"");
+        House.due("load", h.load(0), "1");
+        h.begin("main");
+        StringBuilder looks = new StringBuilder();
+        while (h.run(1).equals("0")) {
+            looks.append(h.x.look(5));
+        }
+        House.due("text", h.bytes(), "ab-=B\nB");
+        House.due("LOOKS behind each byte", looks.toString(), "0011122");
     }
 
     /** "of a BEAN its WORD, which is LOOKED AT", each time. */
